@@ -10,6 +10,7 @@ public final class SealedProcesses {
     public static final int NONE = -1;
 
     private static final int REFUSED = -2;
+    private static final int NO_VALUE = -2147483648;
     private static final int TAPE_SIZE = 2000;
     private static final int SHELF_SIZE = 6;
 
@@ -303,7 +304,7 @@ public final class SealedProcesses {
     public int value(int p, int what, int i) {
         Task task = machine.taskAt(p);
         if (!machine.booted || task == null || task.depth == 0) {
-            return Integer.MIN_VALUE;
+            return NO_VALUE;
         }
         if (what == 0 && i >= 0 && i < task.height) {
             return task.shown(MOST_LOCALS + i);
@@ -312,7 +313,7 @@ public final class SealedProcesses {
         if (what == 1 && i >= 0 && routine != null && i < routine.localCount) {
             return task.shown(i);
         }
-        return Integer.MIN_VALUE;
+        return NO_VALUE;
     }
 
     public int block(int b, int what) {
@@ -433,6 +434,20 @@ public final class SealedProcesses {
     private static boolean isLinear(int type) {
         int kind = type & 255;
         return kind == BLOCK || kind == END;
+    }
+
+    private static int instructionLength(int op, int operand) {
+        int shape = op >= 0 && op < SHAPES.length ? SHAPES[op] : SHAPE_BARE;
+        switch (shape) {
+            case SHAPE_BARE:
+                return 1;
+            case SHAPE_CONSTANT:
+                return 5;
+            case SHAPE_RECEIVE:
+                return 2 + operand;
+            default:
+                return 2;
+        }
     }
 
     /** A module: its bytes and what they tell. */
@@ -757,7 +772,7 @@ public final class SealedProcesses {
 
         private void readContracts() {
             int count = readNumber(0, MOST_CONTRACTS);
-            Contract[] contracts = new Contract[count];
+            Contract[] contracts = new Contract[Math.max(count, 0)];
             for (int c = 0; c < count && !failed; c++) {
                 contracts[c] = readContract(c);
             }
@@ -781,7 +796,7 @@ public final class SealedProcesses {
 
         private void readRoutines() {
             int count = readNumber(1, MOST_FUNCTIONS);
-            Routine[] routines = new Routine[count];
+            Routine[] routines = new Routine[Math.max(count, 0)];
             for (int f = 0; f < count && !failed; f++) {
                 routines[f] = readRoutine(f);
             }
@@ -1026,7 +1041,7 @@ public final class SealedProcesses {
                 useOthers(op, operand);
             }
             if (goesOn && !wrong) {
-                flowTo(place + instructionLength(program, start));
+                flowTo(place + instructionLength(op, operand));
             }
         }
 
@@ -1339,21 +1354,6 @@ public final class SealedProcesses {
             int type = pop();
             require(!isLinear(type));
             return type;
-        }
-    }
-
-    private static int instructionLength(Program program, int start) {
-        int op = program.byteAt(start);
-        int shape = op >= 0 && op < SHAPES.length ? SHAPES[op] : SHAPE_BARE;
-        switch (shape) {
-            case SHAPE_BARE:
-                return 1;
-            case SHAPE_CONSTANT:
-                return 5;
-            case SHAPE_RECEIVE:
-                return 2 + program.byteAt(start + 1);
-            default:
-                return 2;
         }
     }
 
@@ -1699,6 +1699,7 @@ public final class SealedProcesses {
         int depth;
         // Of the latest activation; those of the others stand in the rows.
         int routine;
+        int codeStart;
         int place;
         int height;
         private final int[] routines = new int[MOST_ACTIVATIONS];
@@ -1755,9 +1756,15 @@ public final class SealedProcesses {
                 tags[slot(i)] = isGiven ? tags[given + i] : EMPTY;
                 values[slot(i)] = isGiven ? values[given + i] : 0;
             }
-            routine = entered;
+            turnTo(entered);
             place = 0;
             height = 0;
+        }
+
+        private void turnTo(int turned) {
+            Routine now = program.routineAt(turned);
+            routine = turned;
+            codeStart = now == null ? 0 : now.codeStart;
         }
 
         private void keep() {
@@ -1771,16 +1778,10 @@ public final class SealedProcesses {
         void leave() {
             if (depth > 1 && depth <= MOST_ACTIVATIONS) {
                 depth--;
-                routine = routines[depth - 1];
+                turnTo(routines[depth - 1]);
                 place = places[depth - 1];
                 height = heights[depth - 1];
             }
-        }
-
-        /** The byte of the module where the next instruction begins. */
-        int nextByte() {
-            Routine now = program.routineAt(routine);
-            return now == null ? NONE : now.codeStart + place;
         }
 
         int tagBelow(int below) {
@@ -2207,11 +2208,11 @@ public final class SealedProcesses {
             for (int look = 0; look < MOST_LOOKS && done < n && inVain < MOST_TASKS; look++) {
                 Task task = machine.taskAt(machine.current);
                 if (task != null && findsReady(task)) {
-                    boolean yields = operationOf(task) == OP_YIELD;
-                    step(task);
+                    int op = operationOf(task);
+                    step(task, op);
                     done++;
                     inVain = 0;
-                    if (yields || machine.turnSteps >= TURN_STEPS || !task.isGoing()) {
+                    if (op == OP_YIELD || machine.turnSteps >= TURN_STEPS || !task.isGoing()) {
                         machine.endTurn();
                     }
                 } else {
@@ -2241,7 +2242,7 @@ public final class SealedProcesses {
         }
 
         private static int operationOf(Task task) {
-            return task.program.byteAt(task.nextByte());
+            return task.program.byteAt(task.codeStart + task.place);
         }
 
         private int waitOf(Task task) {
@@ -2250,7 +2251,7 @@ public final class SealedProcesses {
                 return goods.isWaitedFor(task.valueBelow(0)) ? STATUS_GOES_ON : STATUS_RECEIVES;
             }
             if (op == OP_SEND) {
-                int message = task.program.byteAt(task.nextByte() + 1);
+                int message = task.program.byteAt(task.codeStart + task.place + 1);
                 int end = task.valueBelow(sendsAlone(task, message) ? 0 : 1);
                 return goods.isFull(end ^ 1) ? STATUS_SENDS : STATUS_GOES_ON;
             }
@@ -2261,17 +2262,18 @@ public final class SealedProcesses {
             return goods.isLoneSender(task.tagBelow(0), task.valueBelow(0), message);
         }
 
-        private void step(Task task) {
+        private void step(Task task, int op) {
             machine.steps++;
             machine.turnSteps++;
             task.steps++;
-            int start = task.nextByte();
-            int op = task.program.byteAt(start);
-            int operand = task.program.byteAt(start + 1);
-            task.place += instructionLength(task.program, start);
+            int behind = task.codeStart + task.place + 1;
+            int operand = task.program.byteAt(behind);
+            task.place += instructionLength(op, operand);
             int trap = 0;
-            if (op <= OP_SWAP) {
-                moveValues(task, op, start);
+            if (op == OP_PUSH) {
+                task.push(INT, task.program.wordAt(behind));
+            } else if (op <= OP_SWAP) {
+                moveValues(task, op, operand);
             } else if (op <= OP_SAME) {
                 trap = calculate(task, op);
             } else if (op <= OP_ZERO) {
@@ -2285,7 +2287,9 @@ public final class SealedProcesses {
             } else if (op == OP_SEND) {
                 send(task, operand);
             } else if (op == OP_RECEIVE) {
-                receive(task, start + 2);
+                receive(task, behind + 1);
+            } else if (op == OP_SPAWN) {
+                trap = spawn(task, operand);
             } else {
                 trap = useOthers(task, op, operand);
             }
@@ -2294,13 +2298,9 @@ public final class SealedProcesses {
             }
         }
 
-        private static void moveValues(Task task, int op, int start) {
-            int operand = task.program.byteAt(start + 1);
+        private static void moveValues(Task task, int op, int operand) {
             int tag = task.tagBelow(0);
             switch (op) {
-                case OP_PUSH:
-                    task.push(INT, task.program.wordAt(start + 1));
-                    break;
                 case OP_NIL:
                     task.push(NODE, 0);
                     break;
@@ -2502,8 +2502,6 @@ public final class SealedProcesses {
                 case OP_RETURN:
                     giveBack(task);
                     return 0;
-                case OP_SPAWN:
-                    return spawn(task, operand);
                 case OP_EXIT:
                     machine.finish(task, 0);
                     return 0;
