@@ -5,6 +5,7 @@ public final class GoodsTest {
         blocksInMessages();
         messages();
         loneOrLoaded();
+        waitingSenders();
         endsInMessages();
         closing();
         closingFar();
@@ -230,6 +231,37 @@ public final class GoodsTest {
         x.run(100);
         Check.due("over", x.process(0, 0), 4);
         Check.due("no channels", x.about(3), 0);
+    }
+
+    private static void waitingSenders() {
+        // The end is the highest where message 0 is sent, below its load where message 1 is.
+        String text = """
+            contract
+              state client none>0 0>0
+            function 0 : none 3
+              CHANNEL 0
+              STORE 1
+              CHANNEL 0
+              STORE 2
+              PUSH 77
+              SWAP
+              LOAD 0
+              ZERO a
+              b: PUSH 5
+              SEND 1
+              JUMP b
+              a: SEND 0
+              JUMP a
+            """;
+        for (int lone = 0; lone < 2; lone++) {
+            SealedProcesses x = booted(text, Asm.process(0, 0, 1, 0, 0, 0, 1 - lone));
+            Check.due("steps till it waits", x.run(10000), 8 + (lone == 1 ? 4 * 2 : 4 * 3 + 1));
+            Check.due("waits to send", x.process(0, 0), 3);
+            Check.due("items", x.process(0, 6), lone == 1 ? 3 : 4);
+            dueEnd(x, 1, 1, 0, 0, 4);
+            dueEnd(x, 0, 1, 0, 0, 0);
+            Check.due("still", x.about(1), 1);
+        }
     }
 
     private static final String PASSES = """

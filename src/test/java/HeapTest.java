@@ -9,6 +9,7 @@ public final class HeapTest {
         ownHeaps();
         rowsOfNodes();
         contentsStay();
+        deepest();
         Check.end();
     }
 
@@ -233,6 +234,58 @@ public final class HeapTest {
         x.run(20);
         Check.due("no room for two", x.process(2, 1), 5);
         Check.due("room for two", x.process(3, 0), 1);
+    }
+
+    private static void deepest() {
+        // Sixteen activations, each with a node; the deepest makes garbage; then all go back.
+        SealedProcesses x = booted(4, """
+            record 0 1.0
+            function : none 0
+              PUSH 15
+              CALL 1
+              OUT
+              EXIT
+            function 0 : 0 2
+              NEW 0
+              STORE 1
+              LOAD 1
+              LOAD 0
+              PUT 0
+              LOAD 0
+              PUSH 1
+              SUB
+              DUP
+              ZERO d
+              CALL 1
+              LOAD 1
+              GET 0
+              ADD
+              RETURN
+              d: POP
+              PUSH 0
+              g: NEW 0
+              GET 1
+              POP
+              PUSH 1
+              ADD
+              DUP
+              PUSH 30
+              LESS
+              ZERO r
+              JUMP g
+              r: LOAD 1
+              GET 0
+              ADD
+              RETURN
+            """);
+        x.run(2 + 14 * 11 + 13);
+        Check.due("activations", x.process(0, 5), 16);
+        Check.due("function", x.process(0, 3), 1);
+        Check.due("reached", x.process(0, 7), 45 + 3);
+        Check.due("goes on", x.run(10000) < 10000, true);
+        Check.due("over", x.process(0, 0), 4);
+        // 30, and what the nodes have: 1 to 15.
+        Check.due("sum", x.output(0, 1), 30 + 120);
     }
 
     private static void rowsOfNodes() {

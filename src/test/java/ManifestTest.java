@@ -196,6 +196,10 @@ public final class ManifestTest {
             Check.due("owner", x.channel(end / 2, end % 2, 1), owners[end]);
             Check.due("waiting", x.channel(end / 2, end % 2, 2), 0);
         }
+        SealedProcesses y = good("number 0 second", 83, 70, 2, 0, 8, 1, 7, 0, 0, 9, 1, 0, 0, 0, 1, 7, 0);
+        Check.due("channel 0 of number 7", y.value(0, 1, 0), 0);
+        Check.due("channel 1 of number 0", y.value(0, 1, 1), 3);
+        Check.due("channel 1 of number 0", y.value(1, 1, 2), 2);
         int[] about = {0, 0, 3, 2, 0, 0, 0};
         for (int what = 0; what < 7; what++) {
             Check.due("about " + what, x.about(what), about[what]);

@@ -397,8 +397,19 @@ public final class RunTest {
         Check.due("42 blocks", x.about(4), 42);
         x.run(1);
         Check.due("no room", x.process(0, 1), 6);
+        Check.due("42 and the trap", x.process(0, 9), 47);
         Check.due("all gone", x.about(4), 0);
         Check.due("all gone", x.about(5), 0);
+        x = alone("record 0\nfunction : none 2\n" + " BLOCK 0\n".repeat(8) + " CALL 0\n EXIT");
+        x.run(15 * 9 + 8);
+        Check.due("all cells", x.about(5), 256);
+        Check.due("all blocks", x.about(4), 128);
+        Check.due("the last", x.block(127, 0), 1);
+        Check.due("goes on", x.process(0, 0), 1);
+        x = alone("record 0\nfunction : none 2\n" + " BLOCK 0\n".repeat(9) + " CALL 0\n EXIT");
+        x.run(10000);
+        Check.due("one too many", x.process(0, 1), 6);
+        Check.due("its steps", x.process(0, 9), 128 + 14 + 1);
     }
 
     private static void outputs() {

@@ -281,6 +281,7 @@ public final class TypesTest {
         right(": none 0", "PUSH 1, ".repeat(16) + "EXIT");
         wrong(": none 0", "PUSH 1, ".repeat(17) + "EXIT");
         wrong(": none 0", "PUSH 1, ".repeat(16) + "DUP, EXIT");
+        right(": none 0", "PUSH 1, ".repeat(16) + "POP, PUSH 1, ADD, PUSH 2, SWAP, OUT, EXIT");
         wrong(": none 0", "PUSH 1, ".repeat(15) + "CHANNEL 0, EXIT");
         right(": none 0", "PUSH 1, ".repeat(14) + "CHANNEL 0, EXIT");
         wrong("5.0.1.0 : none 1", "PUSH 1, ".repeat(15) + "LOAD 0, RECEIVE a b b, a: EXIT, b: EXIT");
