@@ -11,7 +11,7 @@ import java.util.Map;
  * <pre>
  * record 0 1.0             fields: types, written as the type's numbers with dots
  * contract                 its states follow
- *   state client 4.0>1     whose turn it is (nobody, client, server); each message: load>next
+ *   state client 4.0>1     whose turn it is (nobody, client, server, or a number); each message: load>next
  *   state server none>0
  * function 0 5.0.0.1 : none 3    parameters : result, how many locals; its code follows
  *   here: LOAD 0           a label may stand ahead of an instruction
@@ -109,7 +109,8 @@ final class Asm {
 
     private static void addState(List<Integer> contract, String[] words) {
         contract.set(0, contract.get(0) + 1);
-        contract.add(List.of("nobody", "client", "server").indexOf(words[1]));
+        int turn = List.of("nobody", "client", "server").indexOf(words[1]);
+        contract.add(turn >= 0 ? turn : Integer.parseInt(words[1]));
         contract.add(words.length - 2);
         for (int i = 2; i < words.length; i++) {
             String[] message = words[i].split(">");
