@@ -31,7 +31,10 @@ public final class CallBoundsTest {
         process();
         processesThatNeverWere();
         value();
+        pointers();
         emptyValues();
+        emptyAgain();
+        reached();
         block();
         channel();
         output();
@@ -61,12 +64,13 @@ public final class CallBoundsTest {
     // Nine functions with 4 bytes ahead of their code each, 5 bytes ahead of them all.
     private static int[] moduleOf(int length) {
         int last = length - 5 - 8 * 244 - 4;
-        return Asm.module(("function : none 0\n" + "YIELD\n".repeat(239) + "EXIT\n").repeat(8) + "function : none 0\n"
-            + "YIELD\n".repeat(last - 1) + "EXIT\n");
+        String most = "function : none 0\n" + "YIELD\n".repeat(239) + "EXIT\n";
+        return Asm.module(most.repeat(8) + "function : none 0\n" + "YIELD\n".repeat(last - 1) + "EXIT\n");
     }
 
     private static void feed() {
-        Bounds.says("Twenty bytes come behind those on the tape: four of each number, the highest first: how many there are.");
+        Bounds.says("Twenty bytes come behind those on the tape: four of each number, the highest first: how many "
+            + "there are.");
         Bounds.says("NONE when there would be more than 2,000.");
         SealedProcesses x = new SealedProcesses();
         int[] module = moduleOf(2000);
@@ -132,9 +136,12 @@ public final class CallBoundsTest {
         int[] twenty = Asm.module("function : none 0\n" + "YIELD\n".repeat(10) + "EXIT\n");
         Bounds.due("a module of twenty", twenty.length, 20);
         Bounds.due("all that there are", Check.load(y, twenty), 0);
-        y.feed(1, 2, 3, 4, 5);
+        Check.feed(y, twenty);
         Bounds.due("none of twenty", y.load(0), NONE);
         Bounds.dueFault("none of twenty", y, 1, 0);
+        Check.feed(y, twenty);
+        Bounds.due("one of twenty", y.load(1), NONE);
+        Bounds.dueFault("one of twenty", y, 1, 1);
         Bounds.due("none of none", y.load(0), NONE);
         Bounds.dueFault("none of none", y, 1, 0);
         Bounds.due("one of none", y.load(1), -2);
@@ -175,8 +182,8 @@ public final class CallBoundsTest {
     }
 
     private static void fault() {
-        Bounds.says("Of the latest load() or boot() that was not -2: its FAULT (0: none), or (what 1) the place; NONE when there "
-            + "is none, and ahead of any.");
+        Bounds.says("Of the latest load() or boot() that was not -2: its FAULT (0: none), or (what 1) the place; "
+            + "NONE when there is none, and ahead of any.");
         SealedProcesses x = new SealedProcesses();
         Bounds.dueFault("ahead of any", x, NONE, NONE);
         x.load(1);
@@ -226,8 +233,8 @@ public final class CallBoundsTest {
         + "function 0 0 : none 5\n PUSH 1\n PUSH 1\n EXIT\n" + MAIN;
 
     private static void module() {
-        Bounds.says("Of a module: 0 records, 1 contracts, 2 functions, 3 bytes; of function f: 10 parameters, 11 locals, 12 bytes "
-            + "of code, 13 where that begins, 14 the most that is on its stack (of what is come to).");
+        Bounds.says("Of a module: 0 records, 1 contracts, 2 functions, 3 bytes; of function f: 10 parameters, 11 "
+            + "locals, 12 bytes of code, 13 where that begins, 14 the most that is on its stack (of what is come to).");
         SealedProcesses x = Check.withModule(SMALL);
         int length = Asm.module(SMALL).length;
         int[] want = {3, 1, 2, length};
@@ -283,9 +290,10 @@ public final class CallBoundsTest {
     }
 
     private static void typeAt() {
-        Bounds.says("the type's first byte (0 to 5; 6 NIL) at stack place i (0 the lowest; what 0), or local i (what 1; EMPTY: 7).");
-        String text = "record 0\ncontract\n state client none>0\nfunction 0 1.0 2 5.0.0.0 : none 10\n"
-            + " PUSH 1\n LOAD 1\n LOAD 2\n PUSH 1\n ROWS 0\n BLOCK 0\n LOAD 3\n NIL\n EXIT\n EXIT\n" + MAIN;
+        Bounds.says("the type's first byte (0 to 5; 6 NIL) at stack place i (0 the lowest; what 0), or local i (what "
+            + "1; EMPTY: 7).");
+        String text = "record 0\ncontract\n state client none>0\nfunction 0 1.0 2 5.0.0.0 : none 10\n PUSH 1\n"
+            + " LOAD 1\n LOAD 2\n PUSH 1\n ROWS 0\n BLOCK 0\n LOAD 3\n NIL\n EXIT\n EXIT\n" + MAIN;
         SealedProcesses x = Check.withModule(text);
         int last = 5 + 2 + 2 + 5 + 2 + 2 + 2 + 1;
         int[] stack = {0, 1, 2, 3, 4, 5, 6};
@@ -325,7 +333,8 @@ public final class CallBoundsTest {
     }
 
     private static void boot() {
-        Bounds.says("The first n bytes of the tape (which is empty then) are a manifest, which is booted: how many processes.");
+        Bounds.says("The first n bytes of the tape (which is empty then) are a manifest, which is booted: how many "
+            + "processes.");
         SealedProcesses x = Check.withModule("function : none 0\n b: YIELD\n JUMP b\n");
         for (int n : new int[] {LEAST, -1, 1, MOST}) {
             Bounds.due("boot(" + n + ") of an empty tape", x.boot(n), -2);
@@ -363,11 +372,18 @@ public final class CallBoundsTest {
         Bounds.due("one more than there are", y.boot(21), -2);
         Bounds.due("one less", y.boot(19), NONE);
         Bounds.dueFault("one less", y, 1, 19);
+        for (int n = 0; n < 3; n++) {
+            Check.feed(y, twenty);
+            Bounds.due("the first " + n, y.boot(n), NONE);
+            Bounds.dueFault("the first " + n, y, 1, n);
+        }
     }
 
     private static void run() {
-        Bounds.says("Up to n steps (0 to 10,000; less when all is STILL): how many. NONE for others, or when nothing is booted.");
-        SealedProcesses x = Check.withModule("function : none 0\n b: YIELD\n JUMP b\nfunction : none 0\n YIELD\n YIELD\n EXIT\n");
+        Bounds.says("Up to n steps (0 to 10,000; less when all is STILL): how many. NONE for others, or when nothing "
+            + "is booted.");
+        SealedProcesses x = Check.withModule("function : none 0\n b: YIELD\n JUMP b\nfunction : none 0\n YIELD\n"
+            + " YIELD\n EXIT\n");
         for (int n : new int[] {LEAST, -1, 0, 1, 10000, 10001, MOST}) {
             Bounds.due("run(" + n + ") when nothing is booted", x.run(n), NONE);
         }
@@ -433,8 +449,8 @@ public final class CallBoundsTest {
     }
 
     private static void about() {
-        Bounds.says("0 steps since boot, 1 whether none could go on as things are (1, 0), 2 processes that are not over, 3 "
-            + "channels, 4 blocks, 5 cells of blocks, 6 OUTs.");
+        Bounds.says("0 steps since boot, 1 whether none could go on as things are (1, 0), 2 processes that are not "
+            + "over, 3 channels, 4 blocks, 5 cells of blocks, 6 OUTs.");
         SealedProcesses x = busy();
         Bounds.dueAll("about", Probe.about(x), 20, 0, 2, 1, 2, 8, 2);
         Bounds.says("NONE for others, or when nothing is booted.");
@@ -450,8 +466,9 @@ public final class CallBoundsTest {
     }
 
     private static void process() {
-        Bounds.says("3 the function, 4 the place in its code of its next instruction, 5 activations, 6 items on the stack of the "
-            + "latest one, 7 cells that it reaches, 8 cells of its heap, 9 steps (3 to 7: 0 when it is over).");
+        Bounds.says("3 the function, 4 the place in its code of its next instruction, 5 activations, 6 items on the "
+            + "stack of the latest one, 7 cells that it reaches, 8 cells of its heap, 9 steps (3 to 7: 0 when it is "
+            + "over).");
         SealedProcesses x = busy();
         Bounds.dueAll("process 0", Probe.process(x, 0), 1, 0, 0, 0, 37, 1, 1, 0, 16, 14);
         Bounds.dueAll("process 1", Probe.process(x, 1), 1, 0, 0, 1, 1, 1, 0, 0, 32, 1);
@@ -463,7 +480,8 @@ public final class CallBoundsTest {
             }
         }
         for (int p : new int[] {LEAST, -1, 3, 11, 12, 13, MOST}) {
-            Bounds.dueAll("process " + p, Probe.process(x, p), NONE, NONE, NONE, NONE, NONE, NONE, NONE, NONE, NONE, NONE);
+            Bounds.dueAll("process " + p, Probe.process(x, p), NONE, NONE, NONE, NONE, NONE, NONE, NONE, NONE, NONE,
+                NONE);
         }
     }
 
@@ -488,8 +506,8 @@ public final class CallBoundsTest {
     }
 
     private static void value() {
-        Bounds.says("What a process has (the latest activation): stack place i (what 0), local i (1): an INT itself; of a node or "
-            + "row 1 (NIL 0), of a block its number, of an end twice its channel and the side;");
+        Bounds.says("What a process has (the latest activation): stack place i (what 0), local i (1): an INT itself; "
+            + "of a node or row 1 (NIL 0), of a block its number, of an end twice its channel and the side;");
         SealedProcesses x = busy();
         Bounds.due("an end", x.value(0, 0, 0), 0);
         Bounds.due("a block", x.value(0, 1, 1), 1);
@@ -515,7 +533,8 @@ public final class CallBoundsTest {
         dueNoValue(y, 0, 0, 0);
         dueNoValue(y, 0, 1, 0);
         // The most that there is: ten locals, sixteen on the stack; an INT may be the same number.
-        y = Bounds.booted("function : none 10\n PUSH -2147483648\n STORE 9\n" + " PUSH 1\n".repeat(15) + " PUSH 8\n EXIT\n", PLAIN);
+        y = Bounds.booted("function : none 10\n PUSH -2147483648\n STORE 9\n" + " PUSH 1\n".repeat(15)
+            + " PUSH 8\n EXIT\n", PLAIN);
         Bounds.run(y, 18);
         Bounds.due("the tenth local", y.value(0, 1, 9), LEAST);
         Bounds.due("the first local", y.value(0, 1, 0), 0);
@@ -526,10 +545,11 @@ public final class CallBoundsTest {
     }
 
     private static void emptyValues() {
-        Bounds.says("of EMPTY 0 (a local is so till something is stored, and behind a LOAD of what is linear; by what was stored, "
-            + "whatever JOINING made of its type; that is reached, too).");
-        SealedProcesses x = Bounds.alone("record 0\nrecord 0 0\n", "BLOCK 0, BLOCK 0, STORE 0, PUSH 7, STORE 1, PUSH 1, ZERO e, NEW 1, "
-            + "STORE 1, NEW 1, STORE 2, e: LOAD 0, PUSH 12, ROW, PUSH 0, ROW, EXIT");
+        Bounds.says("of EMPTY 0 (a local is so till something is stored, and behind a LOAD of what is linear; by "
+            + "what was stored, whatever JOINING made of its type; that is reached, too).");
+        SealedProcesses x = Bounds.alone("record 0\nrecord 0 0\n",
+            "BLOCK 0, BLOCK 0, STORE 0, PUSH 7, STORE 1, PUSH 1, ZERO e, NEW 1, STORE 1, NEW 1, STORE 2, e: LOAD 0, "
+            + "PUSH 12, ROW, PUSH 0, ROW, EXIT");
         Bounds.due("till something is stored", x.value(0, 1, 0), 0);
         Bounds.run(x, 3);
         Bounds.due("a block", x.value(0, 1, 0), 1);
@@ -553,9 +573,69 @@ public final class CallBoundsTest {
         Bounds.due("and no more", x.process(0, 1), 5);
     }
 
+    private static void pointers() {
+        Bounds.says("of a node or row 1 (NIL 0)");
+        String makers = "NIL, NEW 0, NIL, PUSH 0, ROW, PUSH 1, ROWS 0, ";
+        SealedProcesses x = Bounds.alone("record 0\n", makers + "STORE 0, STORE 1, STORE 2, STORE 3, EXIT");
+        Bounds.run(x, 7);
+        int[] stack = {0, 1, 0, 1, 1};
+        for (int i = 0; i < 5; i++) {
+            Bounds.due("stack place " + i, x.value(0, 0, i), stack[i]);
+        }
+        Bounds.run(x, 4);
+        for (int i = 0; i < 4; i++) {
+            Bounds.due("local " + i, x.value(0, 1, i), stack[4 - i]);
+        }
+    }
+
+    private static void emptyAgain() {
+        Bounds.says("of EMPTY 0 (a local is so till something is stored");
+        // What the caller had above its stack is nothing to the called one's locals.
+        String text = "record 0\nfunction : none 0\n" + " PUSH 7\n".repeat(12) + " POP\n".repeat(11)
+            + " CALL 1\n EXIT\nfunction 0 : none 10\n YIELD\n RETURN\n";
+        SealedProcesses x = Bounds.booted(text, PLAIN);
+        Bounds.run(x, 24);
+        for (int l = 0; l < 10; l++) {
+            Bounds.due("local " + l, x.value(0, 1, l), l == 0 ? 7 : 0);
+        }
+        x = Bounds.booted("record 0\nfunction : none 0\n" + " NEW 0\n".repeat(8) + " POP\n".repeat(8)
+            + " CALL 1\n EXIT\nfunction : none 10\n YIELD\n RETURN\n", PLAIN);
+        Bounds.run(x, 17);
+        Bounds.due("the called one's locals reach nothing", x.process(0, 7), 0);
+        // Neither is what was there ahead of a boot, or of a SPAWN.
+        text = "function : none 3\n PUSH 5\n STORE 0\n PUSH 6\n STORE 2\n EXIT\nfunction : none 3\n YIELD\n SPAWN 2\n"
+            + " EXIT\n"
+            + "function : none 3\n YIELD\n EXIT\n";
+        x = Bounds.booted(text, PLAIN, Asm.process(0, 1, 1));
+        Bounds.run(x, 4);
+        Bounds.due("local 2", x.value(0, 1, 2), 6);
+        Check.boot(x, PLAIN, Asm.process(0, 1, 1));
+        for (int l = 0; l < 3; l++) {
+            Bounds.due("local " + l + " behind boot", x.value(0, 1, l), 0);
+        }
+        Bounds.run(x, 5 + 1 + 1);
+        Bounds.due("its number again", x.process(0, 3), 2);
+        for (int l = 0; l < 3; l++) {
+            Bounds.due("local " + l + " of the spawned", x.value(0, 1, l), 0);
+        }
+    }
+
+    private static void reached() {
+        Bounds.says("7 cells that it reaches");
+        SealedProcesses x = Bounds.alone("record 0 1.0\n",
+            "PUSH 6, ROW, POP, NEW 0, DUP, NEW 0, PUT 1, DUP, STORE 0, DUP, NIL, "
+            + "PUT 1, POP, NIL, STORE 0, EXIT");
+        int[] want = {0, 7, 0, 3, 3, 6, 6, 6, 6, 6, 6, 3, 3, 3, 0};
+        for (int step = 0; step < want.length; step++) {
+            Bounds.run(x, 1);
+            Bounds.due("cells behind step " + (step + 1), x.process(0, 7), want[step]);
+            Bounds.due("and once more", x.process(0, 7), want[step]);
+        }
+    }
+
     private static void block() {
-        Bounds.says("Of a block: 0 how many fields, 1 its owner: a process, or, while it waits, 100 and twice the channel and the "
-            + "side that it waits for; 10 and on its fields.");
+        Bounds.says("Of a block: 0 how many fields, 1 its owner: a process, or, while it waits, 100 and twice the "
+            + "channel and the side that it waits for; 10 and on its fields.");
         SealedProcesses x = busy();
         int[] whats = {LEAST, -1, 0, 1, 2, 9, 10, 11, 12, 13, 15, 16, MOST};
         int[] first = {NONE, NONE, 3, 101, NONE, NONE, 0, -1, 9, NONE, NONE, NONE, NONE};
@@ -583,8 +663,8 @@ public final class CallBoundsTest {
     }
 
     private static void channel() {
-        Bounds.says("Of a channel: of the client's end (side 0), the server's (1): 0 its state, 1 its owner (as of blocks), 2 "
-            + "messages that wait for it; NONE when that end is closed, or there is no such channel.");
+        Bounds.says("Of a channel: of the client's end (side 0), the server's (1): 0 its state, 1 its owner (as of "
+            + "blocks), 2 messages that wait for it; NONE when that end is closed, or there is no such channel.");
         SealedProcesses x = busy();
         Bounds.dueAll("client's", Probe.end(x, 0, 0), 0, 0, 0);
         Bounds.dueAll("server's", Probe.end(x, 0, 1), 0, 1, 1);
@@ -604,15 +684,25 @@ public final class CallBoundsTest {
         Bounds.due("nothing is booted", new SealedProcesses().channel(0, 0, 0), NONE);
         // The last state, and the twelfth channel.
         String states = "contract\n state client none>7\n" + " state nobody\n".repeat(7);
-        SealedProcesses y = Bounds.booted(states + "function : none 2\n CHANNEL 0\n SWAP\n SEND 0\n CALL 0\n EXIT\n", PLAIN);
+        SealedProcesses y = Bounds.booted(states + "function : none 2\n CHANNEL 0\n SWAP\n SEND 0\n CALL 0\n EXIT\n",
+            PLAIN);
         Bounds.run(y, 4 * 12 - 1);
         Bounds.dueAll("the last state", Probe.end(y, 11, 0), 7, 0, 0);
         Bounds.dueAll("the other end's", Probe.end(y, 11, 1), 0, 0, 1);
         Bounds.due("no more", y.channel(12, 0, 0), NONE);
+        // A side that is none is not one of the channel beside.
+        for (int what = 0; what < 3; what++) {
+            for (int side : new int[] {LEAST, -2, -1, 2, 3, MOST}) {
+                Bounds.due("channel(5, " + side + ", " + what + ")", y.channel(5, side, what), NONE);
+            }
+            Bounds.due("channel(12, -1, " + what + ")", y.channel(12, -1, what), NONE);
+            Bounds.due("channel(-1, 2, " + what + ")", y.channel(-1, 2, what), NONE);
+        }
     }
 
     private static void output() {
-        Bounds.says("Of an OUT: 0 which process, 1 its INT. NONE when there is none such (and for an INT that is NONE).");
+        Bounds.says("Of an OUT: 0 which process, 1 its INT. NONE when there is none such (and for an INT that is "
+            + "NONE).");
         SealedProcesses x = busy();
         Bounds.due("whose", x.output(0, 0), 0);
         Bounds.due("an INT that is NONE", x.output(0, 1), NONE);
@@ -720,7 +810,8 @@ public final class CallBoundsTest {
         dueNothing("a boot with fault 1", NONE, true, x -> Check.boot(x, Asm.process(0, 2, 0)));
         dueNothing("a boot with fault 3", NONE, true, x -> Check.boot(x, Asm.process(0, 2, 1), Asm.process(1, 0, 1)));
         dueNothing("a boot with fault 4", NONE, true, x -> Check.boot(x, Asm.process(0, 2, 1), Asm.process(0, 3, 1)));
-        dueNothing("a boot with fault 5", NONE, true, x -> Check.boot(x, Asm.process(0, 0, 1, 0), Asm.process(0, 0, 1, 0)));
+        dueNothing("a boot with fault 5", NONE, true,
+            x -> Check.boot(x, Asm.process(0, 0, 1, 0), Asm.process(0, 0, 1, 0)));
         dueNothing("a boot with fault 6", NONE, true, x -> Check.boot(x, Asm.process(0, 0, 1, 0)));
         dueNothing("a boot with a byte behind", NONE, true, x -> Check.bootBytes(x, new int[] {83, 70, 1, 0, 2, 1, 0}));
         dueNothing("a full tape", NONE, true, x -> {

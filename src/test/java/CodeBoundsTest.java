@@ -38,6 +38,7 @@ public final class CodeBoundsTest {
         Bounds.open(args);
         whatComesFirst();
         whatIsTaken();
+        typesThatAreTaken();
         mostOnTheStack();
         emptyLocals();
         linearOnce();
@@ -46,6 +47,8 @@ public final class CodeBoundsTest {
         heightsThatJoin();
         typesThatJoin();
         localsThatJoin();
+        tillNothingChanges();
+        behindAWrongOne();
         fields();
         messages();
         receives();
@@ -145,6 +148,72 @@ public final class CodeBoundsTest {
         wrong("5.0.1.0 : none 1", receive + ": EXIT");
     }
 
+    // What makes one of each kind: an INT, NIL, nodes of two records, rows, rows of two records, a block, ends.
+    private static final String[] MAKERS = {"PUSH 1", "NIL", "NEW 0", "NEW 1", "PUSH 1, ROW", "PUSH 1, ROWS 0",
+        "PUSH 1, ROWS 1", "BLOCK 0", "CALL 7", "LOAD 0"};
+
+    /** Between what stands ahead and behind just those kinds are right. */
+    private static void wants(String ahead, String behind, int... kinds) {
+        for (int kind = 0; kind < MAKERS.length; kind++) {
+            boolean fits = false;
+            for (int good : kinds) {
+                fits |= good == kind;
+            }
+            String code = ahead + MAKERS[kind] + ", " + behind + ", EXIT";
+            if (fits) {
+                right("5.0.2.0 : none 2", code);
+            } else {
+                wrong("5.0.2.0 : none 2", code);
+            }
+        }
+    }
+
+    private static void typesThatAreTaken() {
+        for (int op = 7; op <= 18; op++) {
+            wants("PUSH 1, ", Asm.NAMES.get(op), 0);
+            wants("", "PUSH 1, " + Asm.NAMES.get(op), 0);
+        }
+        wants("", "NONE", 1, 2, 3, 4, 5, 6);
+        wants("", "ZERO e, e: YIELD", 0);
+        wants("", "OUT", 0);
+        wants("", "ROW", 0);
+        wants("", "ROWS 1", 0);
+        wants("", "GET 1", 1, 2, 3);
+        wants("", "PUSH 1, PUT 1", 1, 2, 3);
+        wants("NEW 1, ", "PUT 0", 1, 3);
+        wants("NEW 1, ", "PUT 1", 0);
+        wants("NEW 1, ", "PUT 2", 1, 4);
+        wants("NEW 1, ", "PUT 3", 1, 6);
+        wants("", "LENGTH", 1, 4, 5, 6);
+        wants("", "PUSH 0, TAKE", 1, 4, 5, 6);
+        wants("PUSH 1, ROW, ", "TAKE", 0);
+        wants("", "PUSH 0, NIL, LAY", 1, 5, 6);
+        wants("", "PUSH 0, PUSH 1, LAY", 1, 4);
+        wants("PUSH 1, ROW, ", "PUSH 1, LAY", 0);
+        wants("PUSH 1, ROW, PUSH 0, ", "LAY", 0);
+        wants("PUSH 1, ROWS 1, PUSH 0, ", "LAY", 1, 3);
+        wants("", "SEE 0", 7);
+        wants("", "PUSH 1, SET 0", 7);
+        wants("BLOCK 0, ", "SET 0", 0);
+        wants("", "FREE", 7);
+        wants("", "CLOSE", 9);
+        wants("", "SEND 0", 8);
+        wants("CALL 7, ", "SEND 1", 0);
+        wants("CALL 7, ", "SEND 2", 7);
+        wants("", "NEW 1, CALL 1", 0);
+        wants("PUSH 1, ", "CALL 1", 1, 3);
+        wants("", "CALL 3", 1, 4);
+        wants("", "CALL 6", 1, 6);
+        wants("", "BLOCK 0, CALL 2", 8);
+        wants("CALL 7, ", "CALL 2", 7);
+        wants("", "BLOCK 0, SPAWN 2", 8);
+        wants("CALL 7, ", "SPAWN 2", 7);
+        wants("", "STORE 1", 0, 1, 2, 3, 4, 5, 6, 7, 8, 9);
+        wants("", "POP", 0, 1, 2, 3, 4, 5, 6);
+        wants("", "DUP", 0, 1, 2, 3, 4, 5, 6);
+        wants("PUSH 1, ", "SWAP", 0, 1, 2, 3, 4, 5, 6, 7, 8, 9);
+    }
+
     /** What is done grows the stack by so many; what it takes is made first. */
     private static void grows(int more, String makers, int made, String instruction) {
         String head = "0 5.0.1.0 5.0.0.0 : none 4";
@@ -210,7 +279,8 @@ public final class CodeBoundsTest {
         edge(": none 0", "YIELD, RETURN", "YIELD, YIELD");
         edge(": none 0", "YIELD, JUMP 0", "JUMP 3, EXIT, YIELD");
         edge(": none 0", "PUSH 0, ZERO 0, EXIT", "PUSH 0, ZERO 0");
-        right("5.0.1.0 : none 1", "JUMP s, a: EXIT, b: POP, CLOSE, EXIT, c: FREE, CLOSE, EXIT, s: LOAD 0, RECEIVE a b c");
+        right("5.0.1.0 : none 1", "JUMP s, a: EXIT, b: POP, CLOSE, EXIT, c: FREE, CLOSE, EXIT, s: LOAD 0, "
+            + "RECEIVE a b c");
         edge(": none 0", "NIL, LENGTH", "NIL, NONE");
         wrong(": none 0", "PUSH 1, OUT");
         wrong(": none 0", "CALL 0");
@@ -220,8 +290,8 @@ public final class CodeBoundsTest {
     }
 
     private static void whatIsNotComeTo() {
-        Bounds.says("From each instruction that is come to go on what it leaves: to the next one (but JUMP, RETURN, EXIT, "
-            + "RECEIVE), and to its T's");
+        Bounds.says("From each instruction that is come to go on what it leaves: to the next one (but JUMP, RETURN, "
+            + "EXIT, RECEIVE), and to its T's");
         edge(": none 0", "EXIT, POP", "YIELD, POP, EXIT");
         edge(": none 0", "RETURN, POP", "CALL 0, POP, EXIT");
         edge(": none 0", "JUMP e, POP, e: EXIT", "JUMP e, EXIT, e: POP, EXIT");
@@ -282,7 +352,8 @@ public final class CodeBoundsTest {
                 right(": none 1", code);
                 SealedProcesses x = Check.withModule(text(": none 1", code));
                 int last = x.module(0, TESTED, 12) - 1;
-                int want = a == b || kinds[b] == 6 && kinds[a] != 0 ? kinds[a] : kinds[a] == 6 && kinds[b] != 0 ? kinds[b] : 7;
+                int want = a == b || kinds[b] == 6 && kinds[a] != 0 ? kinds[a] : kinds[a] == 6 && kinds[b] != 0
+                    ? kinds[b] : 7;
                 Bounds.due("joined in " + code, x.typeAt(0, TESTED, last, 1, 0), want);
                 if (want == 7) {
                     wrong(": none 1", code.replace("EXIT", "LOAD 0, EXIT"));
@@ -301,6 +372,37 @@ public final class CodeBoundsTest {
             "PUSH 0, ZERO e, LOAD 0, SEND 0, STORE 0, e: EXIT");
     }
 
+    private static void tillNothingChanges() {
+        Bounds.says("Where several come together they are JOINED, till nothing changes:");
+        // What comes from behind goes on to all that stands behind, in as many rounds as it takes.
+        edge(": none 1", "PUSH 1, STORE 0, b: LOAD 0, POP, PUSH 2, STORE 0, JUMP b",
+            "PUSH 1, STORE 0, b: LOAD 0, POP, NIL, STORE 0, JUMP b");
+        String late = "PUSH 0, ZERO n, NIL, STORE 0, b: LOAD 0, GET 1, @, n: NEW 1, STORE 0, JUMP b";
+        edge(": none 1", late.replace("@", "OUT, EXIT"), late.replace("@", "ADD, EXIT"));
+        String higher = "PUSH 0, ZERO n, NIL, b: LENGTH, @, n: PUSH 1, ROW, JUMP b";
+        edge(": none 0", higher.replace("@", "OUT, EXIT"), higher.replace("@", "ADD, EXIT"));
+        // Four locals hand it on, one a round: the last LOAD is wrong once an INT has come there.
+        String slow = "NIL, STORE 0, NIL, STORE 1, NIL, STORE 2, NIL, STORE 3, b: LOAD 3, POP, LOAD 2, STORE 3, "
+            + "LOAD 1, STORE 2, LOAD 0, STORE 1, @, STORE 0, JUMP b";
+        edge(": none 4", slow.replace("@", "NEW 1"), slow.replace("@", "PUSH 1"));
+        SealedProcesses x = Check.withModule(text(": none 4", slow.replace("@", "NEW 1")));
+        for (int l = 0; l < 4; l++) {
+            Bounds.due("local " + l + " where it joins", x.typeAt(0, TESTED, 12, 1, l), 1);
+            Bounds.due("local " + l + " behind", x.typeAt(0, TESTED, 15, 1, l), 1);
+        }
+    }
+
+    private static void behindAWrongOne() {
+        // What was left to look at in a wrong function is nothing to the next one.
+        String wrong = text(": none 0", "PUSH 0, ZERO e, POP, EXIT, e: YIELD, EXIT");
+        String right = text(": none 0", "EXIT, " + "YIELD, ".repeat(7) + "POP, ".repeat(10) + "EXIT");
+        SealedProcesses x = new SealedProcesses();
+        Bounds.due("a wrong one", Check.load(x, wrong), Check.NONE);
+        Bounds.due("a right one behind it", Check.load(x, right), 0);
+        Bounds.due("nothing comes to its POP", x.typeAt(0, TESTED, 9, 1, 0), Check.NONE);
+        Bounds.due("the most", x.module(0, TESTED, 14), 0);
+    }
+
     private static void fields() {
         Bounds.says("23 GET f: a node becomes its field f.");
         edge(": none 0", "NEW 0, GET 1, OUT, EXIT", "NEW 0, GET 2, EXIT");
@@ -315,7 +417,8 @@ public final class CodeBoundsTest {
     }
 
     private static void messages() {
-        Bounds.says("37 SEND t: an end whose turn it is, and above it the load of message t of its state, if that has one");
+        Bounds.says("37 SEND t: an end whose turn it is, and above it the load of message t of its state, if that "
+            + "has one");
         String client = "5.0.0.0 5.1.0.1 : none 2";
         edge(client, "LOAD 0, SEND 0, EXIT", "LOAD 0, SEND 1, EXIT");
         edge(client, "LOAD 0, PUSH 1, SEND 1, EXIT", "LOAD 0, PUSH 1, SEND 0, EXIT");
@@ -323,8 +426,11 @@ public final class CodeBoundsTest {
         edge(client, "LOAD 0, LOAD 1, SEND 3, CLOSE, EXIT", "LOAD 0, BLOCK 0, SEND 3, EXIT");
         // Of the server's three messages there is no fourth.
         edge("5.0.1.1 : none 1", "LOAD 0, BLOCK 0, SEND 2, CLOSE, EXIT", "LOAD 0, BLOCK 0, SEND 3, EXIT");
-        wrong("5.0.1.1 : none 1", "LOAD 0, SEND 3, EXIT");
-        edge("5.1.0.1 : none 1", "LOAD 0, SEND 0, CLOSE, EXIT", "LOAD 0, SEND 1, EXIT");
+        right("5.1.0.1 : none 1", "LOAD 0, SEND 0, CLOSE, EXIT");
+        for (String load : new String[] {"", "PUSH 1, ", "NIL, ", "BLOCK 0, ", "CALL 7, "}) {
+            wrong("5.0.1.1 : none 1", "LOAD 0, " + load + "SEND 3, EXIT");
+            wrong("5.1.0.1 : none 1", "LOAD 0, " + load + "SEND 1, EXIT");
+        }
         // Whose turn it is.
         for (int state = 0; state < 3; state++) {
             for (int side = 0; side < 2; side++) {
@@ -336,8 +442,8 @@ public final class CodeBoundsTest {
                 }
             }
         }
-        Bounds.says("(The highest is the end if it is an end whose turn it is, with a message t without a load; else it is "
-            + "the load.)");
+        Bounds.says("(The highest is the end if it is an end whose turn it is, with a message t without a load; else "
+            + "it is the load.)");
         right("5.0.0.0 5.1.0.1 : none 2", "LOAD 0, LOAD 1, SEND 0, CLOSE, SEND 0, EXIT");
         edge("5.0.0.0 5.1.0.1 : none 2", "LOAD 1, LOAD 0, SEND 0, EXIT", "LOAD 1, LOAD 0, SEND 3, EXIT");
     }
@@ -374,7 +480,8 @@ public final class CodeBoundsTest {
         wrong(": 0 0", "PUSH 1, PUSH 1, RETURN");
         edge(": 4.0 0", "BLOCK 0, RETURN", "BLOCK 0, BLOCK 0, RETURN");
         for (int l = 0; l < 10; l++) {
-            edge(": none 10", "BLOCK 0, STORE " + l + ", LOAD " + l + ", FREE, RETURN", "BLOCK 0, STORE " + l + ", RETURN");
+            edge(": none 10", "BLOCK 0, STORE " + l + ", LOAD " + l + ", FREE, RETURN",
+                "BLOCK 0, STORE " + l + ", RETURN");
         }
         edge("5.0.2.0 : none 1", "LOAD 0, CLOSE, RETURN", "RETURN");
         edge("1.1 2 3.1 0 : none 4", "RETURN", "LOAD 0, RETURN");
@@ -387,7 +494,8 @@ public final class CodeBoundsTest {
         wrong(": none 0", "NIL, SPAWN 6, EXIT");
         wrong(": none 0", "PUSH 1, ROW, SPAWN 3, EXIT");
         wrong(": none 0", "PUSH 1, NIL, SPAWN 1, EXIT");
-        edge("0 0 0 0 : none 4", "PUSH 1, PUSH 1, PUSH 1, PUSH 1, SPAWN 8, EXIT", "PUSH 1, PUSH 1, PUSH 1, SPAWN 8, EXIT");
+        edge("0 0 0 0 : none 4", "PUSH 1, PUSH 1, PUSH 1, PUSH 1, SPAWN 8, EXIT",
+            "PUSH 1, PUSH 1, PUSH 1, SPAWN 8, EXIT");
         edge("0 1.1 : none 2", "PUSH 1, NIL, CALL 8, EXIT", "PUSH 1, NIL, SPAWN 8, EXIT");
     }
 

@@ -10,6 +10,8 @@ public final class GoodsBoundsTest {
         closedLikewise();
         nothingComesAnyMore();
         onlyItsOwn();
+        whichIsTheEnd();
+        numbersThatLookAlike();
         Check.end();
     }
 
@@ -238,8 +240,8 @@ public final class GoodsBoundsTest {
     }
 
     private static void waitingForAClosedEnd() {
-        Bounds.says("An end that is closed goes, and all messages that wait for it, with what they have: blocks go, ends are "
-            + "closed likewise.");
+        Bounds.says("An end that is closed goes, and all messages that wait for it, with what they have: blocks go, "
+            + "ends are closed likewise.");
         SealedProcesses x = Bounds.booted(PASSING, Asm.process(0, 0, 1, 0), Asm.process(0, 2, 1, 0));
         Bounds.run(x, 7 + 1 + 5);
         dueEnd(x, 0, 1, 0, 1, 3);
@@ -255,7 +257,8 @@ public final class GoodsBoundsTest {
         dueEnd(x, 0, 0, 0, 0, 0);
         // Four that wait for a sender who waits: it goes on then.
         x = Bounds.booted("contract\n state client none>0\nfunction 5.0.0.0 : none 1\n LOAD 0\n b: SEND 0\n JUMP b\n"
-            + "function 5.0.0.1 : none 1\n YIELD\n YIELD\n YIELD\n EXIT\n", Asm.process(0, 0, 1, 0), Asm.process(0, 1, 1, 0));
+            + "function 5.0.0.1 : none 1\n YIELD\n YIELD\n YIELD\n EXIT\n",
+            Asm.process(0, 0, 1, 0), Asm.process(0, 1, 1, 0));
         Bounds.run(x, 8 + 1 + 1 + 1);
         Bounds.due("waits", x.process(0, 0), 3);
         Bounds.due("four", x.channel(0, 1, 2), 4);
@@ -275,8 +278,9 @@ public final class GoodsBoundsTest {
         text.append("contract\n state client 5.0.0.1>0 4.0>0 none>1\n state nobody\n");
         // The first function makes a channel, sends it what it was given, and calls itself with the server's end.
         text.append("function : none 3\n CHANNEL 0\n SWAP\n BLOCK 0\n SEND 1\n STORE 0\n PUSH 10\n CALL 1\n EXIT\n");
-        text.append("function 5.0.0.1 0 : none 4\n CHANNEL 0\n STORE 2\n LOAD 0\n SEND 0\n STORE 3\n LOAD 1\n PUSH 1\n SUB\n"
-            + " DUP\n ZERO e\n STORE 1\n LOAD 2\n LOAD 1\n CALL 1\n EXIT\n e: POP\n LOAD 2\n SPAWN 2\n b: YIELD\n JUMP b\n");
+        text.append("function 5.0.0.1 0 : none 4\n CHANNEL 0\n STORE 2\n LOAD 0\n SEND 0\n STORE 3\n LOAD 1\n"
+            + " PUSH 1\n SUB\n DUP\n ZERO e\n STORE 1\n LOAD 2\n LOAD 1\n CALL 1\n EXIT\n e: POP\n LOAD 2\n SPAWN 2\n"
+            + " b: YIELD\n JUMP b\n");
         text.append("function 5.0.0.1 : none 1\n b: YIELD\n YIELD\n EXIT\n");
         SealedProcesses x = Bounds.booted(text.toString(), Asm.process(0, 0, 1));
         // Seven steps of the first, fourteen of each that calls again, thirteen of the last with its SPAWN.
@@ -300,12 +304,12 @@ public final class GoodsBoundsTest {
     }
 
     private static void nothingComesAnyMore() {
-        Bounds.says("To an end whose other one is closed nothing comes any more: a RECEIVE there WAITS for ever, when nothing "
-            + "waits.");
+        Bounds.says("To an end whose other one is closed nothing comes any more: a RECEIVE there WAITS for ever, "
+            + "when nothing waits.");
         for (int messages = 0; messages <= 4; messages++) {
             SealedProcesses x = Bounds.booted("contract\n state client 0>0\nfunction 5.0.0.0 : none 1\n LOAD 0\n"
-                + " PUSH 5\n SEND 0\n".repeat(messages) + " EXIT\nfunction 5.0.0.1 : none 1\n LOAD 0\n r: RECEIVE a\n a: OUT\n"
-                + " JUMP r\n", Asm.process(0, 0, 1, 0), Asm.process(0, 1, 1, 0));
+                + " PUSH 5\n SEND 0\n".repeat(messages) + " EXIT\nfunction 5.0.0.1 : none 1\n LOAD 0\n r: RECEIVE a\n"
+                + " a: OUT\n JUMP r\n", Asm.process(0, 0, 1, 0), Asm.process(0, 1, 1, 0));
             Bounds.due("steps", x.run(10000), 2 + 2 * messages + 1 + 3 * messages);
             Bounds.due("what waited came", x.about(6), messages);
             Bounds.due("waits", x.process(1, 0), 2);
@@ -320,8 +324,8 @@ public final class GoodsBoundsTest {
     private static void onlyItsOwn() {
         Bounds.says("blocks with one owner, which are handed over");
         // Two processes with a block and a channel each, and one beside: just those of the one that is over go.
-        String text = "record 0\ncontract\n state client none>0\nfunction : none 1\n BLOCK 0\n CHANNEL 0\n YIELD\n YIELD\n EXIT\n"
-            + "function : none 1\n BLOCK 0\n CHANNEL 0\n b: YIELD\n JUMP b\n";
+        String text = "record 0\ncontract\n state client none>0\nfunction : none 1\n BLOCK 0\n CHANNEL 0\n YIELD\n"
+            + " YIELD\n EXIT\nfunction : none 1\n BLOCK 0\n CHANNEL 0\n b: YIELD\n JUMP b\n";
         SealedProcesses x = Bounds.booted(text, Asm.process(0, 1, 1), Asm.process(0, 0, 1), Asm.process(0, 1, 1));
         Bounds.run(x, 3 * 3);
         Bounds.dueAll("about", Probe.about(x), 9, 0, 3, 3, 3, 6, 0);
@@ -336,5 +340,106 @@ public final class GoodsBoundsTest {
         dueClosed(x, 1, 0);
         dueClosed(x, 1, 1);
         Bounds.due("its block", x.block(1, 1), Check.NONE);
+    }
+
+    private static void whichIsTheEnd() {
+        Bounds.says("(The highest is the end if it is an end whose turn it is, with a message t without a load; else "
+            + "it is the load.)");
+        // A server's end whose turn it is, with an end below it that is none of the sender's.
+        SealedProcesses x = Bounds.booted("""
+            contract
+              state server none>1
+              state nobody
+            function : none 2
+              CHANNEL 0
+              SEND 0
+              CLOSE
+              RECEIVE r
+              r: CLOSE
+              EXIT
+            """, Asm.process(0, 0, 1));
+        Bounds.run(x, 2);
+        dueEnd(x, 0, 0, 0, 0, 1);
+        dueEnd(x, 0, 1, 1, 0, 0);
+        Bounds.run(x, 4);
+        Bounds.due("over", x.process(0, 0), 4);
+        // A server's end whose turn it is not, though message 0 of its state has no load: it is the load.
+        // Then a client's end whose turn it is, whose message 1 has a load: it is the load, too.
+        x = Bounds.booted("""
+            contract
+              state client 5.1.0.1>0 5.1.0.0>1
+              state nobody
+            contract
+              state client none>0 0>0
+            function : none 4
+              CHANNEL 0
+              STORE 0
+              CHANNEL 1
+              SWAP
+              STORE 1
+              SEND 0
+              LOAD 1
+              SEND 1
+              CLOSE
+              EXIT
+            """, Asm.process(0, 0, 1));
+        Bounds.run(x, 6);
+        dueEnd(x, 0, 0, 0, 0, 0);
+        dueEnd(x, 0, 1, 0, 0, 1);
+        dueEnd(x, 1, 0, 0, 0, 0);
+        dueEnd(x, 1, 1, 0, 101, 0);
+        Bounds.run(x, 2);
+        dueEnd(x, 0, 0, 1, 0, 0);
+        dueEnd(x, 0, 1, 0, 0, 2);
+        dueEnd(x, 1, 0, 0, 101, 0);
+    }
+
+    private static void numbersThatLookAlike() {
+        // An INT, a block and an end with one and the same number: each is handed over by itself.
+        String text = """
+            record 0
+            contract
+              state client 0>0 4.0>0
+            contract
+              state client none>0
+            function 5.0.0.0 5.1.0.0 : none 3
+              BLOCK 0
+              STORE 2
+              LOAD 0
+              PUSH 0
+              SEND 0
+              PUSH 2
+              SEND 0
+              PUSH 0
+              SPAWN 2
+              LOAD 2
+              SEND 1
+              b: YIELD
+              JUMP b
+            function 5.0.0.1 5.1.0.1 : none 2
+              b: YIELD
+              JUMP b
+            function 0 : none 1
+              b: YIELD
+              JUMP b
+            """;
+        SealedProcesses x = Bounds.booted(text, Asm.process(0, 0, 1, 0, 1), Asm.process(0, 1, 1, 0, 1));
+        Bounds.run(x, 5);
+        Bounds.due("INT 0 is not block 0", x.block(0, 1), 0);
+        dueEnd(x, 0, 0, 0, 0, 0);
+        dueEnd(x, 0, 1, 0, 1, 1);
+        Bounds.run(x, 2);
+        // INT 2 is not the client's end of channel 1, that could send such a message alone.
+        dueEnd(x, 0, 1, 0, 1, 2);
+        dueEnd(x, 1, 0, 0, 0, 0);
+        dueEnd(x, 1, 1, 0, 1, 0);
+        Bounds.run(x, 1 + 1 + 1);
+        Bounds.due("the child is there", x.about(2), 3);
+        Bounds.due("INT 0 is not block 0", x.block(0, 1), 0);
+        dueEnd(x, 0, 0, 0, 0, 0);
+        Bounds.run(x, 1 + 2);
+        Bounds.due("block 0 waits", x.block(0, 1), 101);
+        dueEnd(x, 0, 0, 0, 0, 0);
+        dueEnd(x, 0, 1, 0, 1, 3);
     }
 }

@@ -5,8 +5,8 @@ public final class ManifestBoundsTest {
     private static final String LOOP = "\n b: YIELD\n JUMP b\n";
     // Functions: 0 plain, 1 four INTs, 2 the client's end, 3 the server's, 4 four client's ends, 5 four server's,
     // 6 plain, 7 plain, 8 an INT and both ends, 9 plain.
-    private static final String MODULE = "contract\n state client 0>1\n state nobody\n"
-        + "function : none 0" + LOOP + "function 0 0 0 0 : none 4" + LOOP + "function 5.0.0.0 : none 1" + LOOP
+    private static final String MODULE = "contract\n state client 0>1\n state nobody\nfunction : none 0" + LOOP
+        + "function 0 0 0 0 : none 4" + LOOP + "function 5.0.0.0 : none 1" + LOOP
         + "function 5.0.0.1 : none 1" + LOOP + "function 5.0.0.0 5.0.0.0 5.0.0.0 5.0.0.0 : none 4" + LOOP
         + "function 5.0.0.1 5.0.0.1 5.0.0.1 5.0.0.1 : none 4" + LOOP + "function : none 0" + LOOP
         + "function : none 0" + LOOP + "function 0 5.0.0.0 5.0.0.1 : none 3" + LOOP + "function : none 0" + LOOP;
@@ -25,7 +25,9 @@ public final class ManifestBoundsTest {
         numbers();
         uses();
         usedOnce();
+        usedAgain();
         alike();
+        alikeOfThree();
         firstFromTheLeft();
         end();
         booted();
@@ -84,7 +86,8 @@ public final class ManifestBoundsTest {
 
     private static void modulesThatRun() {
         Bounds.says("What runs keeps the modules that it was booted with.");
-        String text = "function : none 0\n b: PUSH @\n OUT\n SPAWN 1\n YIELD\n JUMP b\nfunction : none 0\n PUSH @\n OUT\n EXIT\n";
+        String text = "function : none 0\n b: PUSH @\n OUT\n SPAWN 1\n YIELD\n JUMP b\nfunction : none 0\n PUSH @\n"
+            + " OUT\n EXIT\n";
         SealedProcesses x = Check.withModule(text.replace("@", "7"));
         Check.boot(x, PLAIN);
         Bounds.run(x, 2);
@@ -111,7 +114,8 @@ public final class ManifestBoundsTest {
             edge(1, one, Bounds.with(one, 1, number));
         }
         edge(1, one, manifest());
-        edge(1, manifest(PLAIN, PLAIN, PLAIN, PLAIN, PLAIN, PLAIN), manifest(PLAIN, PLAIN, PLAIN, PLAIN, PLAIN, PLAIN, PLAIN));
+        edge(1, manifest(PLAIN, PLAIN, PLAIN, PLAIN, PLAIN, PLAIN),
+            manifest(PLAIN, PLAIN, PLAIN, PLAIN, PLAIN, PLAIN, PLAIN));
         edge(1, one, Bounds.with(one, 2, 255));
         SealedProcesses x = taken(manifest(PLAIN, PLAIN, PLAIN, PLAIN, PLAIN, PLAIN));
         Bounds.due("the sixth", x.process(5, 0), 1);
@@ -141,8 +145,8 @@ public final class ManifestBoundsTest {
     }
 
     private static void functions() {
-        Bounds.says("4 a function that is not there, has a result, or a parameter that is neither INT nor an end in state 0 "
-            + "(at the function's byte);");
+        Bounds.says("4 a function that is not there, has a result, or a parameter that is neither INT nor an end in "
+            + "state 0 (at the function's byte);");
         edge(4, manifest(Asm.process(0, 9, 1)), manifest(Asm.process(0, 10, 1)));
         edge(4, manifest(Asm.process(0, 0, 1)), manifest(Asm.process(0, 255, 1)));
         edge(4, manifest(PLAIN, PLAIN, PLAIN, PLAIN, PLAIN, Asm.process(0, 9, 1)),
@@ -229,8 +233,8 @@ public final class ManifestBoundsTest {
     }
 
     private static void uses() {
-        Bounds.says("5 a number of an end that was used twice, or whose other use is of the same side, or of a contract that "
-            + "is not alike:");
+        Bounds.says("5 a number of an end that was used twice, or whose other use is of the same side, or of a "
+            + "contract that is not alike:");
         int[] client = Asm.process(0, 2, 1, 3);
         int[] server = Asm.process(0, 3, 1, 3);
         taken(manifest(client, server));
@@ -262,6 +266,23 @@ public final class ManifestBoundsTest {
         refused(1, lone.length, Asm.join(lone, new int[] {0}));
     }
 
+    private static void usedAgain() {
+        // What one manifest used, taken or refused, is nothing to the next.
+        SealedProcesses x = withModule();
+        int[][] manifests = {pair(3), manifest(Asm.process(0, 2, 1, 3)), pair(3),
+            manifest(Asm.process(0, 2, 1, 3), Asm.process(0, 2, 1, 3)), pair(3),
+            manifest(Asm.process(0, 4, 1, 0, 1, 2, 3), Asm.process(0, 5, 1, 0, 1, 2, 3)), pair(3), pair(0)};
+        int[] faults = {0, 6, 0, 5, 0, 0, 0, 0};
+        int[] channels = {1, 1, 1, 1, 1, 4, 1, 1};
+        for (int i = 0; i < manifests.length; i++) {
+            Bounds.due("manifest " + i, Check.bootBytes(x, manifests[i]), faults[i] == 0 ? 2 : Check.NONE);
+            Bounds.due("its fault", x.fault(0), faults[i]);
+            Bounds.due("channels", x.about(3), channels[i]);
+            Bounds.due("the first end", x.value(0, 1, 0), 0);
+            Bounds.due("the other end", x.value(1, 1, 0), 1);
+        }
+    }
+
     /** Whether a number may be used for ends of the contracts 0 of two modules. */
     private static void dueAlike(boolean want, String one, String other) {
         String[][] ways = {{one, other}, {other, one}};
@@ -281,7 +302,8 @@ public final class ManifestBoundsTest {
     }
 
     private static void alike() {
-        Bounds.says("as many states, each with the same turn, as many messages, these with alike loads and states then");
+        Bounds.says("as many states, each with the same turn, as many messages, these with alike loads and states "
+            + "then");
         String eight = "contract\n" + " state client none>0 none>1 none>2 none>7\n".repeat(8);
         String seven = " state client none>0 none>1 none>2 none>7\n".repeat(7);
         alikeEdge(eight, "contract\n" + seven.replace(">7", ">6"));
@@ -290,10 +312,10 @@ public final class ManifestBoundsTest {
         alikeEdge(eight, "contract\n" + seven + " state client none>0 none>1 none>2 none>6\n");
         alikeEdge(eight, "contract\n" + seven + " state client none>0 none>1 none>2 0>7\n");
         alikeEdge(eight, "contract\n" + seven + " state nobody\n");
-        Bounds.says("(loads are alike when they are INT, blocks of as many fields, or ends of one state and side of alike "
-            + "contracts: two are unlike when there is anything in them, however far, that is not so)");
-        String loads = "record 0 0 0 0 0 0\nrecord 0 0 0 0 0\nrecord 0 0 0 0 0 0\ncontract\n state client 0>0 4.0>0 5.1.1.0>0\n"
-            + "contract\n state client none>0\n state client none>0\n";
+        Bounds.says("(loads are alike when they are INT, blocks of as many fields, or ends of one state and side of "
+            + "alike contracts: two are unlike when there is anything in them, however far, that is not so)");
+        String loads = "record 0 0 0 0 0 0\nrecord 0 0 0 0 0\nrecord 0 0 0 0 0 0\ncontract\n state client 0>0 4.0>0 "
+            + "5.1.1.0>0\ncontract\n state client none>0\n state client none>0\n";
         dueAlike(true, loads, loads.replace("4.0", "4.2"));
         alikeEdge(loads, loads.replace("4.0", "4.1"));
         alikeEdge(loads, loads.replace("client 0>0", "client 4.0>0"));
@@ -302,13 +324,28 @@ public final class ManifestBoundsTest {
         alikeEdge(loads, loads.replace("5.1.1.0", "5.1.1.1"));
         alikeEdge(loads, loads.replace("5.1.1.0", "5.0.0.0"));
         // As far as four contracts go.
-        String far = "contract\n state client 5.1.0.0>0\ncontract\n state client 5.2.0.0>0\n"
-            + "contract\n state client 5.3.0.0>0\ncontract\n state client none>0 5.0.0.0>0\n state server none>1\n";
+        String far = "contract\n state client 5.1.0.0>0\ncontract\n state client 5.2.0.0>0\ncontract\n"
+            + " state client 5.3.0.0>0\ncontract\n state client none>0 5.0.0.0>0\n state server none>1\n";
         alikeEdge(far, far.replace("server none>1", "server none>0"));
         // One that names itself is like one that names another like it.
         String self = "contract\n state client 5.0.0.0>0\n";
         dueAlike(true, self, "contract\n state client 5.1.0.0>0\ncontract\n state client 5.0.0.0>0\n");
         dueAlike(false, self, "contract\n state client 5.1.0.0>0\ncontract\n state client 5.0.0.1>0\n");
+    }
+
+    private static void alikeOfThree() {
+        // The first pair of contracts is alike; that is nothing to the next, of the same numbers in other modules.
+        String plain = "contract\n state client none>0\n";
+        for (String other : new String[] {plain, "contract\n state client 0>0\n"}) {
+            SealedProcesses x = new SealedProcesses();
+            Check.load(x, plain + "function 5.0.0.0 5.0.0.0 : none 2\n EXIT\n");
+            Check.load(x, plain + "function 5.0.0.1 : none 1\n EXIT\n");
+            Bounds.due("load of " + other, Check.load(x, other + "function 5.0.0.1 : none 1\n EXIT\n"), 2);
+            int booted = Check.boot(x, Asm.process(0, 0, 1, 0, 1), Asm.process(1, 0, 1, 0), Asm.process(2, 0, 1, 1));
+            Bounds.due("alike with " + other, booted, other.equals(plain) ? 3 : Check.NONE);
+            Bounds.dueFault("alike with " + other, x, other.equals(plain) ? 0 : 5,
+                other.equals(plain) ? Check.NONE : 15);
+        }
     }
 
     private static void firstFromTheLeft() {

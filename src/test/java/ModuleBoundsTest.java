@@ -59,7 +59,8 @@ public final class ModuleBoundsTest {
         Bounds.edge(plain.repeat(4) + MAIN, plain.repeat(5) + MAIN);
         Bounds.says("contract = how many states (1 to 8), for each:");
         Bounds.edge(plain + MAIN, "contract\n" + MAIN);
-        Bounds.edge("contract\n" + " state nobody\n".repeat(8) + MAIN, "contract\n" + " state nobody\n".repeat(9) + MAIN);
+        Bounds.edge("contract\n" + " state nobody\n".repeat(8) + MAIN,
+            "contract\n" + " state nobody\n".repeat(9) + MAIN);
         Bounds.says("whose TURN it is (0 nobody's, 1 the client's, 2 the server's)");
         Bounds.taken(plain + MAIN);
         Bounds.taken("contract\n state client none>0\n" + MAIN);
@@ -200,7 +201,8 @@ public final class ModuleBoundsTest {
                 String first = "contract\n state client 5.";
                 Bounds.edge(first + last + ".0.0>0\n" + others + MAIN, first + refused + ".0.0>0\n" + others + MAIN);
                 String plain = "contract\n state nobody\n" + others + "function ";
-                Bounds.edge(plain + "5." + last + ".0.0 : none 1\n EXIT\n", plain + "5." + refused + ".0.0 : none 1\n EXIT\n");
+                Bounds.edge(plain + "5." + last + ".0.0 : none 1\n EXIT\n",
+                    plain + "5." + refused + ".0.0 : none 1\n EXIT\n");
                 Bounds.edge(plain + ": 5." + last + ".0.0 0\n EXIT\n", plain + ": 5." + refused + ".0.0 0\n EXIT\n");
                 Bounds.edge(plain + ": none 0\n CHANNEL " + last + "\n EXIT\n",
                     plain + ": none 0\n CHANNEL " + refused + "\n EXIT\n");
@@ -216,11 +218,13 @@ public final class ModuleBoundsTest {
             int last = count - 1;
             String first = "contract\n state client none>0 ";
             for (int refused : new int[] {count, 255}) {
-                Bounds.edge(first + "none>" + last + "\n" + others + MAIN, first + "none>" + refused + "\n" + others + MAIN);
+                Bounds.edge(first + "none>" + last + "\n" + others + MAIN,
+                    first + "none>" + refused + "\n" + others + MAIN);
                 Bounds.edge(first + "5.0." + last + ".1>0\n" + others + MAIN,
                     first + "5.0." + refused + ".1>0\n" + others + MAIN);
                 String plain = first + "\n" + others + "function ";
-                Bounds.edge(plain + "5.0." + last + ".0 : none 1\n EXIT\n", plain + "5.0." + refused + ".0 : none 1\n EXIT\n");
+                Bounds.edge(plain + "5.0." + last + ".0 : none 1\n EXIT\n",
+                    plain + "5.0." + refused + ".0 : none 1\n EXIT\n");
                 Bounds.edge(plain + ": 5.0." + last + ".0 0\n EXIT\n", plain + ": 5.0." + refused + ".0 0\n EXIT\n");
             }
         }
@@ -246,14 +250,17 @@ public final class ModuleBoundsTest {
     private static void recordsOfBlocks() {
         Bounds.says("a record of blocks has INTs alone.");
         Bounds.says("a record of a block that has other fields than INTs;");
-        String head = "record 0 0 0 0 0 0\nrecord 0\nrecord 1.0\nrecord 2\nrecord 3.0\nrecord 0 0 0 0 0 2\nrecord 2 0\n";
+        String head = "record 0 0 0 0 0 0\nrecord 0\nrecord 1.0\nrecord 2\nrecord 3.0\nrecord 0 0 0 0 0 2\n"
+            + "record 2 0\n";
         for (int good : new int[] {0, 1}) {
             for (int bad = 2; bad <= 7; bad++) {
                 // Record 7 is none at all.
                 Bounds.edge(head + "contract\n state client 4." + good + ">0\n" + MAIN,
                     head + "contract\n state client 4." + bad + ">0\n" + MAIN);
-                Bounds.edge(head + "function 4." + good + " : none 1\n EXIT\n", head + "function 4." + bad + " : none 1\n EXIT\n");
-                Bounds.edge(head + "function : 4." + good + " 0\n EXIT\n", head + "function : 4." + bad + " 0\n EXIT\n");
+                Bounds.edge(head + "function 4." + good + " : none 1\n EXIT\n",
+                    head + "function 4." + bad + " : none 1\n EXIT\n");
+                Bounds.edge(head + "function : 4." + good + " 0\n EXIT\n",
+                    head + "function : 4." + bad + " 0\n EXIT\n");
                 Bounds.edge(head + "function : none 0\n BLOCK " + good + "\n EXIT\n",
                     head + "function : none 0\n BLOCK " + bad + "\n EXIT\n");
             }
@@ -330,7 +337,8 @@ public final class ModuleBoundsTest {
     }
 
     private static void operands() {
-        Bounds.says("a local that is none, of GET, PUT, SEE, SET an f above 5, of SEND a t above 3, of RECEIVE n not 1 to 4;");
+        Bounds.says("a local that is none, of GET, PUT, SEE, SET an f above 5, of SEND a t above 3, of RECEIVE n not "
+            + "1 to 4;");
         for (String op : new String[] {"LOAD ", "STORE "}) {
             for (int locals : new int[] {1, 2, 10}) {
                 String head = "function : none " + locals + "\n EXIT\n ";
@@ -429,6 +437,16 @@ public final class ModuleBoundsTest {
         form[form.length - 1] = 44;
         Bounds.refused(form, 1, form.length - 1);
         Bounds.refused(Asm.join(Asm.module(bad), new int[] {0}), 1, form.length);
+        // A name's number is no bound of the form, whatever it is.
+        for (int name : new int[] {1, 8, 254, 255}) {
+            String two = "record 0\ncontract\n state nobody\nfunction 1.@ 5.@.@.0 : none 2\n NEW @\n CALL @\n"
+                + " CHANNEL @\n JUMP @\n EXIT\n";
+            int[] bytes = Asm.module(two.replace("@", "" + name));
+            Bounds.refused(bytes, 1, 12);
+            Bounds.refused(Asm.join(bytes, new int[] {0}), 1, bytes.length);
+            bytes[bytes.length - 1] = 44;
+            Bounds.refused(bytes, 1, bytes.length - 1);
+        }
         Bounds.says("If there is none: 2, with the place where its code begins: the first function that is not RIGHT.");
         String right = "function : none 0\n EXIT\n";
         String wrong = "function : none 0\n POP\n EXIT\n";

@@ -2,12 +2,16 @@
 public final class RunBoundsTest {
     private static final String RECORDS = "record 0 1.0\nrecord 0 0\nrecord 0 0 0 0 0 0\nrecord 0\n";
     private static final int[] PLAIN = {0, 0, 1};
+    private static final int LEAST = Integer.MIN_VALUE;
+    private static final int MOST = Integer.MAX_VALUE;
 
     public static void main(String[] args) throws Exception {
         Bounds.open(args);
         mostProcesses();
+        lastProcess();
         lowestProcess();
         mostChannels();
+        lastChannel();
         lowestChannel();
         mostBlocks();
         lowestBlock();
@@ -19,12 +23,8 @@ public final class RunBoundsTest {
         turnsAcrossRuns();
         waitsToReceive();
         waitsToSend();
+        waitsBesideOthers();
         still();
-        wraps();
-        divisions();
-        shifts();
-        comparisons();
-        constants();
         nilTraps();
         indexTraps();
         divisionTraps();
@@ -75,15 +75,45 @@ public final class RunBoundsTest {
         Bounds.due("eleven stay", x.about(2), 11);
         Bounds.due("no number 12", x.process(12, 0), Check.NONE);
         // Six of a manifest and six more; one that is over makes place.
-        x = Bounds.booted("function : none 0\n" + " SPAWN 1\n".repeat(6) + " YIELD\n SPAWN 1\n EXIT\n"
-            + "function : none 0\n b: YIELD\n JUMP b\nfunction : none 0\n YIELD\n EXIT\n", PLAIN, Asm.process(0, 1, 1),
-            Asm.process(0, 1, 1), Asm.process(0, 1, 1), Asm.process(0, 1, 1), Asm.process(0, 2, 1));
+        x = Bounds.booted("function : none 0\n" + " SPAWN 1\n".repeat(6)
+            + " YIELD\n SPAWN 1\n EXIT\nfunction : none 0\n b: YIELD\n JUMP b\nfunction : none 0\n YIELD\n EXIT\n",
+            PLAIN, Asm.process(0, 1, 1), Asm.process(0, 1, 1), Asm.process(0, 1, 1), Asm.process(0, 1, 1),
+            Asm.process(0, 2, 1));
         Bounds.run(x, 6);
         Bounds.due("twelve", x.about(2), 12);
         Bounds.run(x, 1 + 11);
         Bounds.due("the sixth goes on", x.process(5, 0), 1);
         Bounds.run(x, 1);
         dueTrap(x, 8);
+    }
+
+    private static void lastProcess() {
+        Bounds.says("TURNS: from process 0 on, by number, round and round");
+        String spawns = "function : none 0\n" + " SPAWN 1\n".repeat(11) + " b: PUSH 0\n OUT\n YIELD\n JUMP b\n"
+            + "function : none 0\n b: PUSH 1\n OUT\n YIELD\n JUMP b\n";
+        SealedProcesses x = Bounds.booted(spawns, PLAIN);
+        // Eight SPAWNs, a turn of eight children, then three SPAWNs and two steps, and so on.
+        Bounds.run(x, 8 + 3 * 8 + 6 + 4 * 8 + 3 * 3);
+        for (int p = 0; p < 12; p++) {
+            Bounds.due("steps of " + p, x.process(p, 9), p == 0 ? 14 : p < 9 ? 7 : 3);
+        }
+        Bounds.due("OUTs", x.about(6), 8 + 1 + 8 + 3);
+        for (int i = 0; i < 20; i++) {
+            Bounds.due("whose OUT " + i, x.output(i, 0), i < 8 ? i + 1 : i - 8);
+        }
+        Bounds.run(x, 1);
+        Bounds.due("then the first again", x.process(0, 9), 15);
+        // Eleven that wait, and one that goes on: each is looked at ahead of each step.
+        String waits = "contract\n state client none>0\nfunction : none 0\n" + " SPAWN 1\n".repeat(11)
+            + " b: YIELD\n JUMP b\nfunction : none 1\n CHANNEL 0\n RECEIVE r\n r: EXIT\n";
+        x = Bounds.booted(waits, PLAIN);
+        Bounds.run(x, 10000);
+        Bounds.run(x, 10000);
+        Bounds.due("steps of the one", x.process(0, 9), 20000 - 11);
+        for (int p = 1; p < 12; p++) {
+            Bounds.due("waits", x.process(p, 0), 2);
+            Bounds.due("its steps", x.process(p, 9), 1);
+        }
     }
 
     private static void lowestProcess() {
@@ -124,8 +154,8 @@ public final class RunBoundsTest {
         // Those of a manifest count.
         String ends = "5.0.0.0 5.0.0.0 5.0.0.0 5.0.0.0";
         x = Bounds.booted(CONTRACT + "function " + ends + " : none 4\n b: YIELD\n JUMP b\nfunction "
-            + ends.replace("0.0.0", "0.0.1") + " : none 4\n b: YIELD\n JUMP b\n"
-            + "function : none 0\n CHANNEL 0\n CHANNEL 0\n CHANNEL 0\n CHANNEL 0\n YIELD\n CHANNEL 0\n EXIT\n",
+            + ends.replace("0.0.0", "0.0.1") + " : none 4\n b: YIELD\n JUMP b\nfunction : none 0\n CHANNEL 0\n"
+            + " CHANNEL 0\n CHANNEL 0\n CHANNEL 0\n YIELD\n CHANNEL 0\n EXIT\n",
             Asm.process(0, 2, 1), Asm.process(0, 0, 1, 0, 1, 2, 3), Asm.process(0, 1, 1, 0, 1, 2, 3),
             Asm.process(0, 0, 1, 4, 5, 6, 7), Asm.process(0, 1, 1, 4, 5, 6, 7));
         Bounds.run(x, 4);
@@ -134,6 +164,66 @@ public final class RunBoundsTest {
         Bounds.run(x, 1 + 4 + 1);
         dueTrap(x, 7);
         Bounds.due("eight stay", x.about(3), 8);
+    }
+
+    private static void lastChannel() {
+        // All twelve channels, four messages on each end of the last.
+        String text = """
+            contract
+              state client 0>0 none>1
+              state server 0>1 none>2
+              state nobody
+            function 0 : none 4
+              CHANNEL 0
+              STORE 1
+              STORE 2
+              LOAD 0
+              ZERO s
+              LOAD 0
+              PUSH 1
+              SUB
+              CALL 0
+              EXIT
+              s: LOAD 2
+              PUSH 11
+              SEND 0
+              PUSH 12
+              SEND 0
+              PUSH 13
+              SEND 0
+              SEND 1
+              STORE 2
+              LOAD 1
+              a: RECEIVE b c
+              b: OUT
+              JUMP a
+              c: PUSH 21
+              SEND 0
+              PUSH 22
+              SEND 0
+              PUSH 23
+              SEND 0
+              SEND 1
+              CLOSE
+              LOAD 2
+              d: RECEIVE e f
+              e: OUT
+              JUMP d
+              f: CLOSE
+              EXIT
+            """;
+        SealedProcesses x = Bounds.booted(text, Asm.process(0, 0, 1, 0, 0, 0, 11));
+        Bounds.run(x, 11 * 9 + 5 + 9);
+        Bounds.due("twelve", x.about(3), 12);
+        Bounds.dueAll("the last server's", Probe.end(x, 11, 1), 0, 0, 4);
+        Bounds.dueAll("the last client's", Probe.end(x, 11, 0), 1, 0, 0);
+        x.run(10000);
+        Bounds.due("over", x.process(0, 0), 4);
+        int[] outs = {11, 12, 13, 21, 22, 23};
+        Bounds.due("OUTs", x.about(6), 6);
+        for (int i = 0; i < 6; i++) {
+            Bounds.due("OUT " + i, x.output(i, 1), outs[i]);
+        }
     }
 
     private static void lowestChannel() {
@@ -187,8 +277,9 @@ public final class RunBoundsTest {
         Bounds.says("6 no room for a BLOCK;");
         // 36 of seven cells are 252: four are left, for a block of three fields and not for one of four.
         String records = "record 0 0 0 0 0 0\nrecord 0 0 0\nrecord 0 0 0 0\nrecord 0\n";
-        String code = "function : none 0\n" + " BLOCK 0\n".repeat(12) + " CALL 1\n EXIT\nfunction : none 0\n"
-            + " BLOCK 0\n".repeat(12) + " CALL 2\n EXIT\nfunction : none 0\n" + " BLOCK 0\n".repeat(12) + " BLOCK @\n BLOCK 3\n EXIT\n";
+        String twelve = "function : none 0\n" + " BLOCK 0\n".repeat(12);
+        String code = twelve + " CALL 1\n EXIT\n" + twelve + " CALL 2\n EXIT\n" + twelve
+            + " BLOCK @\n BLOCK 3\n EXIT\n";
         for (int last : new int[] {1, 2, 3}) {
             SealedProcesses x = Bounds.booted(records + code.replace("@", "" + last), PLAIN);
             Bounds.run(x, 38);
@@ -209,8 +300,8 @@ public final class RunBoundsTest {
             }
         }
         // The smallest: 128 of two cells.
-        String small = "record 0\nfunction : none 0\n" + " BLOCK 0\n".repeat(8) + " CALL @\n EXIT\n"
-            + "function : none 0\n BLOCK 0\n EXIT\n";
+        String small = "record 0\nfunction : none 0\n" + " BLOCK 0\n".repeat(8)
+            + " CALL @\n EXIT\nfunction : none 0\n BLOCK 0\n EXIT\n";
         SealedProcesses x = Bounds.booted(small.replace("@", "0"), PLAIN);
         Bounds.run(x, 15 * 9 + 8);
         Bounds.due("128 blocks", x.about(4), 128);
@@ -221,8 +312,9 @@ public final class RunBoundsTest {
     }
 
     private static void lowestBlock() {
-        SealedProcesses x = Bounds.alone(RECORDS, "BLOCK 2, STORE 0, BLOCK 1, STORE 1, BLOCK 2, STORE 2, LOAD 1, PUSH 9, SET 1, "
-            + "FREE, LOAD 0, PUSH 8, SET 0, FREE, BLOCK 3, BLOCK 1, BLOCK 3, EXIT");
+        SealedProcesses x = Bounds.alone(RECORDS,
+            "BLOCK 2, STORE 0, BLOCK 1, STORE 1, BLOCK 2, STORE 2, LOAD 1, PUSH 9, SET 1, FREE, LOAD 0, PUSH 8, "
+            + "SET 0, FREE, BLOCK 3, BLOCK 1, BLOCK 3, EXIT");
         Bounds.run(x, 6);
         int[] numbers = {0, 1, 2};
         for (int l = 0; l < 3; l++) {
@@ -244,8 +336,8 @@ public final class RunBoundsTest {
     private static void mostActivations() {
         Bounds.says("16 ACTIVATIONS of a process");
         Bounds.says("9 an activation too many;");
-        String text = "function : none 0\n PUSH 15\n CALL 1\n PUSH @\n CALL 1\n EXIT\n"
-            + "function 0 : none 1\n LOAD 0\n PUSH 1\n SUB\n DUP\n ZERO e\n CALL 1\n RETURN\n e: POP\n RETURN\n";
+        String text = "function : none 0\n PUSH 15\n CALL 1\n PUSH @\n CALL 1\n EXIT\nfunction 0 : none 1\n LOAD 0\n"
+            + " PUSH 1\n SUB\n DUP\n ZERO e\n CALL 1\n RETURN\n e: POP\n RETURN\n";
         SealedProcesses x = Bounds.booted(text.replace("@", "15"), PLAIN);
         // PUSH and CALL; then six steps of each from the second to the fifteenth.
         Bounds.run(x, 2 + 14 * 6);
@@ -300,8 +392,8 @@ public final class RunBoundsTest {
     }
 
     private static void turnsOfEight() {
-        Bounds.says("TURNS: from process 0 on, by number, round and round: one that is not over does instructions, each a STEP, "
-            + "till it did 8, or a YIELD, or is over;");
+        Bounds.says("TURNS: from process 0 on, by number, round and round: one that is not over does instructions, "
+            + "each a STEP, till it did 8, or a YIELD, or is over;");
         SealedProcesses x = Bounds.booted(BUSY, PLAIN, PLAIN, PLAIN);
         Bounds.run(x, 8);
         dueSteps(x, 8, 0, 0);
@@ -348,7 +440,8 @@ public final class RunBoundsTest {
     private static void turnsBehindTheEnd() {
         String text = BUSY + "function : none 0\n YIELD\n EXIT\nfunction : none 0\n YIELD\n NIL\n LENGTH\n"
             + "function : none 0\n YIELD\n RETURN\n";
-        SealedProcesses x = Bounds.booted(text, PLAIN, Asm.process(0, 1, 1), Asm.process(0, 2, 1), Asm.process(0, 3, 1), PLAIN);
+        SealedProcesses x = Bounds.booted(text, PLAIN, Asm.process(0, 1, 1), Asm.process(0, 2, 1),
+            Asm.process(0, 3, 1), PLAIN);
         Bounds.run(x, 8 + 1 + 1 + 1 + 8);
         dueSteps(x, 8, 1, 1, 1, 8);
         Bounds.run(x, 8 + 1);
@@ -375,7 +468,8 @@ public final class RunBoundsTest {
     }
 
     private static void turnsAcrossRuns() {
-        Bounds.says("(run() stops behind its last step, looks at nothing more then, and goes on there: also within a turn.)");
+        Bounds.says("(run() stops behind its last step, looks at nothing more then, and goes on there: also within a "
+            + "turn.)");
         SealedProcesses x = Bounds.booted(BUSY, PLAIN, PLAIN);
         for (int step = 1; step <= 40; step++) {
             Bounds.run(x, 1);
@@ -455,8 +549,8 @@ public final class RunBoundsTest {
     }
 
     private static void waitsToSend() {
-        Bounds.says("or a SEND when four wait for the other end already: that is not done, no step, and looked at again in its "
-            + "next turn.");
+        Bounds.says("or a SEND when four wait for the other end already: that is not done, no step, and looked at "
+            + "again in its next turn.");
         SealedProcesses x = Bounds.booted(CHANNELED, Asm.process(0, 0, 1, 0), Asm.process(0, 5, 1, 0));
         // LOAD, then PUSH, SEND, JUMP: the third SEND is the ninth step, the fourth the twelfth.
         Bounds.run(x, 8 + 2);
@@ -483,6 +577,47 @@ public final class RunBoundsTest {
         Bounds.due("goes on", x.process(0, 0), 1);
     }
 
+    private static void waitsBesideOthers() {
+        // Of three channels the second is full; the end is above an INT, alone or below its load.
+        String text = """
+            contract
+              state client none>0 0>0
+            function 0 : none 6
+              CHANNEL 0
+              STORE 0
+              STORE 1
+              CHANNEL 0
+              STORE 2
+              STORE 3
+              CHANNEL 0
+              STORE 4
+              STORE 5
+              PUSH 1
+              PUSH 4
+              LOAD 3
+              LOAD 0
+              PUSH 0
+              POP
+              STORE 0
+              LOAD 1
+              SEND 0
+              STORE 1
+              b: @
+              JUMP b
+            """;
+        String[] sends = {"SEND 0", "PUSH 5\n SEND 1", "PUSH 0\n SEND 1", "PUSH 2\n SEND 1"};
+        for (int i = 0; i < sends.length; i++) {
+            SealedProcesses x = Bounds.booted(text.replace("@", sends[i]), Asm.process(0, 0, 1, 0, 0, 0, 1));
+            int each = i == 0 ? 2 : 3;
+            Bounds.due("steps till it waits", x.run(10000), 19 + 4 * each + (i == 0 ? 0 : 1));
+            Bounds.due("waits to send", x.process(0, 0), 3);
+            Bounds.dueAll("four wait", Probe.end(x, 1, 1), 0, 0, 4);
+            Bounds.dueAll("one waits", Probe.end(x, 0, 1), 0, 0, 1);
+            Bounds.dueAll("none waits", Probe.end(x, 2, 1), 0, 0, 0);
+            Bounds.due("still", x.about(1), 1);
+        }
+    }
+
     private static void still() {
         Bounds.says("When none can go on (each was looked at once around) all is STILL.");
         SealedProcesses x = Bounds.booted(CHANNELED, Asm.process(0, 1, 1, 0), Asm.process(0, 2, 1, 0));
@@ -490,9 +625,9 @@ public final class RunBoundsTest {
         Bounds.due("not still", x.about(1), 0);
         // A sender and a receiver whose other ends do nothing: both wait.
         String text = CHANNELED + "function 5.0.0.0 5.0.0.1 : none 2\n LOAD 1\n RECEIVE r\n r: EXIT\n"
-            + "function 5.0.0.1 5.0.0.0 : none 2\n LOAD 1\n b: PUSH 1\n SEND 0\n JUMP b\n"
-            + "function 5.0.0.0 5.0.0.1 : none 2\n LOAD 1\n RECEIVE r\n r: POP\n RECEIVE s\n s: EXIT\n"
-            + "function 5.0.0.1 5.0.0.0 : none 2\n LOAD 1\n PUSH 1\n SEND 0\n STORE 1\n LOAD 0\n RECEIVE r\n r: EXIT\n";
+            + "function 5.0.0.1 5.0.0.0 : none 2\n LOAD 1\n b: PUSH 1\n SEND 0\n JUMP b\nfunction 5.0.0.0 5.0.0.1 : "
+            + "none 2\n LOAD 1\n RECEIVE r\n r: POP\n RECEIVE s\n s: EXIT\nfunction 5.0.0.1 5.0.0.0 : none 2\n"
+            + " LOAD 1\n PUSH 1\n SEND 0\n STORE 1\n LOAD 0\n RECEIVE r\n r: EXIT\n";
         x = Bounds.booted(text, Asm.process(0, 6, 1, 0, 1), Asm.process(0, 6, 1, 1, 0));
         Bounds.due("till both wait", x.run(10000), 2);
         Bounds.due("both wait", x.process(0, 0) + x.process(1, 0), 4);
@@ -516,99 +651,6 @@ public final class RunBoundsTest {
         Bounds.due("one step", x.run(10000), 1);
         Bounds.due("still", x.about(1), 1);
         Bounds.due("none", x.run(1), 0);
-    }
-
-    private static void calculate(String op, int a, int b, int want) {
-        SealedProcesses x = Bounds.alone("", "PUSH " + a + ", PUSH " + b + ", " + op + ", EXIT");
-        Bounds.run(x, 3);
-        Bounds.due(a + " " + op + " " + b, x.value(0, 0, 0), want);
-    }
-
-    private static final int LEAST = Integer.MIN_VALUE;
-    private static final int MOST = Integer.MAX_VALUE;
-
-    private static void wraps() {
-        Bounds.says("two INTs become one (32 bits; LESS, SAME: 1 or 0).");
-        calculate("ADD", MOST - 1, 1, MOST);
-        calculate("ADD", MOST, 1, LEAST);
-        calculate("ADD", LEAST, -1, MOST);
-        calculate("ADD", LEAST, LEAST, 0);
-        calculate("SUB", LEAST + 1, 1, LEAST);
-        calculate("SUB", LEAST, 1, MOST);
-        calculate("SUB", MOST, -1, LEAST);
-        calculate("SUB", 0, LEAST, LEAST);
-        calculate("MUL", 46340, 46340, 2147395600);
-        calculate("MUL", 46341, 46341, -2147479015);
-        calculate("MUL", 65536, 32768, LEAST);
-        calculate("MUL", 65536, 65536, 0);
-        calculate("MUL", LEAST, -1, LEAST);
-        calculate("AND", LEAST, -1, LEAST);
-        calculate("OR", LEAST, MOST, -1);
-        calculate("XOR", -1, MOST, LEAST);
-    }
-
-    private static void divisions() {
-        Bounds.says("10 DIV (cut towards 0), 11 REM (the rest that belongs to DIV)");
-        int[][] rows = {{7, 2, 3, 1}, {-7, 2, -3, -1}, {7, -2, -3, 1}, {-7, -2, 3, -1}, {1, 2, 0, 1}, {-1, 2, 0, -1},
-            {0, 5, 0, 0}, {LEAST, -1, LEAST, 0}, {LEAST, 1, LEAST, 0}, {LEAST, LEAST, 1, 0}, {MOST, LEAST, 0, MOST},
-            {LEAST, MOST, -1, -1}, {LEAST, 2, -1073741824, 0}, {6, 2, 3, 0}, {-6, 2, -3, 0}};
-        for (int[] row : rows) {
-            calculate("DIV", row[0], row[1], row[2]);
-            calculate("REM", row[0], row[1], row[3]);
-        }
-    }
-
-    private static void shifts() {
-        Bounds.says("15 SHL, 16 SHR (with the sign; both by the lowest five bits)");
-        calculate("SHL", 1, 0, 1);
-        calculate("SHL", 1, 31, LEAST);
-        calculate("SHL", 1, 32, 1);
-        calculate("SHL", 1, 33, 2);
-        calculate("SHL", 1, -1, LEAST);
-        calculate("SHL", 3, 63, LEAST);
-        calculate("SHL", 1, LEAST, 1);
-        calculate("SHR", LEAST, 31, -1);
-        calculate("SHR", LEAST, 32, LEAST);
-        calculate("SHR", LEAST, 33, -1073741824);
-        calculate("SHR", MOST, 31, 0);
-        calculate("SHR", MOST, 30, 1);
-        calculate("SHR", LEAST, -1, -1);
-        calculate("SHR", -1, 1, -1);
-    }
-
-    private static void comparisons() {
-        Bounds.says("17 LESS, 18 SAME:");
-        calculate("LESS", 1, 2, 1);
-        calculate("LESS", 2, 2, 0);
-        calculate("LESS", 3, 2, 0);
-        calculate("LESS", -1, 0, 1);
-        calculate("LESS", LEAST, MOST, 1);
-        calculate("LESS", MOST, LEAST, 0);
-        calculate("SAME", 2, 2, 1);
-        calculate("SAME", 2, 3, 0);
-        calculate("SAME", LEAST, LEAST, 1);
-        calculate("SAME", 0, LEAST, 0);
-        Bounds.says("21 ZERO T: an INT goes; to T if it is 0.");
-        for (int number : new int[] {-1, 0, 1, LEAST, 256, 65536}) {
-            SealedProcesses x = Bounds.alone("", "PUSH " + number + ", ZERO e, YIELD, e: EXIT");
-            Bounds.run(x, 2);
-            Bounds.due("the place behind ZERO of " + number, x.process(0, 4), number == 0 ? 8 : 7);
-            Bounds.due("it went", x.process(0, 6), 0);
-        }
-    }
-
-    private static void constants() {
-        Bounds.says("In them numbers are one byte (0 to 255), K are four, the highest first, with a sign.");
-        for (int number : new int[] {0, 1, -1, 127, 128, 255, 256, 16909060, -16909060, LEAST, MOST}) {
-            SealedProcesses x = Bounds.alone("", "PUSH " + number + ", EXIT");
-            Bounds.run(x, 1);
-            Bounds.due("K", x.value(0, 0, 0), number);
-        }
-        SealedProcesses x = new SealedProcesses();
-        Check.load(x, new int[] {83, 77, 0, 0, 1, 0, 255, 0, 6, 0, 128, 1, 2, 255, 42});
-        Check.boot(x, PLAIN);
-        x.run(1);
-        Bounds.due("the highest first", x.value(0, 0, 0), (128 << 24) + (1 << 16) + (2 << 8) + 255);
     }
 
     private static void nilTraps() {
@@ -677,7 +719,8 @@ public final class RunBoundsTest {
     }
 
     private static void heapTraps() {
-        Bounds.says("a node takes as many cells as fields and 1, a row as items and 1: no room, when all that its stack, locals");
+        Bounds.says("a node takes as many cells as fields and 1, a row as items and 1: no room, when all that its "
+            + "stack, locals");
         Bounds.says("reach, and what is asked, are more than its heap has");
         // The heap has sixteen cells.
         for (String row : new String[] {"ROW", "ROWS 0"}) {
@@ -698,11 +741,25 @@ public final class RunBoundsTest {
         trap(5, 4, "PUSH 9, ROW, STORE 3, NEW 2, EXIT");
         for (int below = 8; below <= 9; below++) {
             for (String keep : new String[] {" STORE 9\n", ""}) {
-                SealedProcesses x = Bounds.booted("record 0 0 0 0 0 0\nfunction : none 10\n PUSH " + below + "\n ROW\n" + keep
+                SealedProcesses x = Bounds.booted("record 0 0 0 0 0 0\nfunction : none 10\n PUSH " + below
+                    + "\n ROW\n" + keep
                     + " CALL 1\n EXIT\nfunction : none 0\n NEW 0\n EXIT\n", PLAIN);
                 x.run(100);
                 Bounds.due("a row of " + below + " below", x.process(0, 1), below == 8 ? 0 : 5);
             }
+        }
+        // In each of sixteen activations a row of none, on the stack; the last asks for one more.
+        SealedProcesses deep = Bounds.booted("function : none 0\n PUSH 0\n ROW\n CALL 0\n EXIT\n", PLAIN);
+        Bounds.run(deep, 3 * 15 + 2);
+        Bounds.due("sixteen cells", deep.process(0, 7), 16);
+        Bounds.due("sixteen activations", deep.process(0, 5), 16);
+        for (int first : new int[] {0, 1}) {
+            SealedProcesses x = Bounds.booted("function : none 0\n CALL 2\n EXIT\nfunction : none 0\n PUSH 0\n ROW\n"
+                + " CALL 2\n EXIT\n"
+                + "function : none 1\n PUSH 0\n ROW\n CALL 3\n EXIT\n"
+                + "function : none 0\n PUSH 0\n ROW\n DUP\n POP\n PUSH 13\n ROW\n EXIT\n", Asm.process(0, first, 1));
+            x.run(100);
+            Bounds.due("cells of " + first + " below", x.process(0, 1), first == 0 ? 0 : 5);
         }
         // The largest heap.
         String text = "function 0 : none 1\n LOAD 0\n ROW\n EXIT\n";
@@ -737,18 +794,25 @@ public final class RunBoundsTest {
         trap(5, 6, "PUSH 7, ROW, DUP, STORE 0, PUSH 8, ROW, EXIT");
         fine("NEW 0, DUP, DUP, PUT 1, POP, PUSH 15, ROW, EXIT");
         trap(5, 6, "NEW 0, DUP, DUP, PUT 1, PUSH 13, ROW, EXIT");
+        // Again and again, with all the room there is.
+        SealedProcesses z = Bounds.alone("",
+            "b: PUSH 6, ROW, STORE 0, PUSH 8, ROW, STORE 1, NIL, STORE 0, NIL, STORE 1, "
+            + "PUSH 15, ROW, STORE 2, NIL, STORE 2, JUMP b");
+        Bounds.run(z, 5000);
+        Bounds.due("goes on", z.process(0, 0), 1);
         // Behind a RETURN what it had is not reached.
-        SealedProcesses x = Bounds.booted("function : none 0\n CALL 1\n PUSH 15\n ROW\n EXIT\n"
-            + "function : none 1\n PUSH 15\n ROW\n STORE 0\n RETURN\n", PLAIN);
+        SealedProcesses x = Bounds.booted("function : none 0\n CALL 1\n PUSH 15\n ROW\n EXIT\nfunction : none 1\n"
+            + " PUSH 15\n ROW\n STORE 0\n RETURN\n", PLAIN);
         x.run(100);
         Bounds.due("behind a RETURN", x.process(0, 0), 4);
     }
 
     private static void spawned() {
-        Bounds.says("(A process that was spawned has a heap of its parent's size; it is run from the next time on that its number "
-            + "comes.)");
+        Bounds.says("(A process that was spawned has a heap of its parent's size; it is run from the next time on "
+            + "that its number comes.)");
         String text = "function : none 0\n SPAWN 1\n b: YIELD\n JUMP b\nfunction : none 0\n PUSH 47\n ROW\n EXIT\n"
-            + "function : none 0\n EXIT\nfunction : none 0\n SPAWN 4\n b: YIELD\n JUMP b\nfunction : none 0\n PUSH 48\n ROW\n EXIT\n";
+            + "function : none 0\n EXIT\nfunction : none 0\n SPAWN 4\n b: YIELD\n JUMP b\nfunction : none 0\n"
+            + " PUSH 48\n ROW\n EXIT\n";
         for (int first : new int[] {0, 3}) {
             // A number behind its parent's comes in the same round.
             SealedProcesses x = Bounds.booted(text, Asm.process(0, first, 3));
