@@ -29,6 +29,7 @@ public final class CallBoundsTest {
         run();
         about();
         process();
+        howProcessesAre();
         processesThatNeverWere();
         value();
         pointers();
@@ -485,6 +486,59 @@ public final class CallBoundsTest {
         }
     }
 
+    private static void howProcessesAre() {
+        Bounds.says("Of a process: 0 how it is: 1 it goes on, 2 it waits to receive, 3 to send (these as it was found "
+            + "in its latest turn), 4 over, 5 over by a trap; 1 the trap (0: none); 2 the place of its module on the "
+            + "shelf when it was booted;");
+        SealedProcesses x = new SealedProcesses();
+        for (int m = 0; m < 5; m++) {
+            Check.load(x, MAIN);
+        }
+        String text = """
+            contract
+              state client none>0
+            function 5.0.0.0 : none 1
+              LOAD 0
+              b: SEND 0
+              JUMP b
+            function 5.0.0.1 : none 1
+              b: YIELD
+              JUMP b
+            function 5.0.0.0 : none 1
+              b: YIELD
+              JUMP b
+            function 5.0.0.1 : none 1
+              LOAD 0
+              RECEIVE r
+              r: EXIT
+            function : none 0
+              SPAWN 6
+              NIL
+              LENGTH
+            function : none 0
+              RETURN
+            function : none 0
+              y: YIELD
+              JUMP y
+            """;
+        Bounds.due("the last place", Check.load(x, text), 5);
+        Bounds.due("boot", Check.boot(x, Asm.process(5, 0, 1, 0), Asm.process(5, 1, 1, 0), Asm.process(5, 2, 1, 1),
+            Asm.process(5, 3, 1, 1), Asm.process(5, 4, 1), Asm.process(4, 0, 1)), 6);
+        for (int p = 0; p < 6; p++) {
+            Bounds.due("booted " + p, x.process(p, 0), 1);
+            Bounds.due("no trap " + p, x.process(p, 1), 0);
+            Bounds.due("its module " + p, x.process(p, 2), p < 5 ? 5 : 4);
+        }
+        Bounds.due("discard", x.discard(5), true);
+        Bounds.run(x, 100);
+        int[] how = {3, 1, 1, 2, 5, 4, 1};
+        for (int p = 0; p < 7; p++) {
+            Bounds.due("how " + p + " is", x.process(p, 0), how[p]);
+            Bounds.due("the trap of " + p, x.process(p, 1), p == 4 ? 1 : 0);
+            Bounds.due("the module of " + p + " when it was booted", x.process(p, 2), p == 5 ? 4 : 5);
+        }
+    }
+
     private static void processesThatNeverWere() {
         SealedProcesses x = Check.withModule(MAIN + "function : none 0\n" + "SPAWN 0\n".repeat(3) + "EXIT\n");
         Bounds.due("nothing is booted", x.process(0, 0), NONE);
@@ -603,9 +657,8 @@ public final class CallBoundsTest {
         Bounds.run(x, 17);
         Bounds.due("the called one's locals reach nothing", x.process(0, 7), 0);
         // Neither is what was there ahead of a boot, or of a SPAWN.
-        text = "function : none 3\n PUSH 5\n STORE 0\n PUSH 6\n STORE 2\n EXIT\nfunction : none 3\n YIELD\n SPAWN 2\n"
-            + " EXIT\n"
-            + "function : none 3\n YIELD\n EXIT\n";
+        text = "function : none 3\n PUSH 5\n STORE 0\n PUSH 6\n STORE 2\n EXIT\n"
+            + "function : none 3\n YIELD\n SPAWN 2\n EXIT\nfunction : none 3\n YIELD\n EXIT\n";
         x = Bounds.booted(text, PLAIN, Asm.process(0, 1, 1));
         Bounds.run(x, 4);
         Bounds.due("local 2", x.value(0, 1, 2), 6);

@@ -256,6 +256,7 @@ public final class CodeBoundsTest {
     }
 
     private static void linearOnce() {
+        Bounds.says("Types 4 and 5 are LINEAR.");
         Bounds.says("3 STORE l: one comes to local l, which must have nothing linear.");
         edge(": none 2", "BLOCK 0, STORE 0, BLOCK 0, STORE 1, EXIT", "BLOCK 0, STORE 0, BLOCK 0, STORE 0, EXIT");
         edge("4.0 : none 1", "LOAD 0, FREE, PUSH 1, STORE 0, EXIT", "PUSH 1, STORE 0, EXIT");

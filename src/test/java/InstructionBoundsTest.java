@@ -11,6 +11,8 @@ public final class InstructionBoundsTest {
         shifts();
         comparisons();
         constants();
+        oneBehindTheOther();
+        jumps();
         locals();
         swaps();
         nilOrNot();
@@ -127,6 +129,42 @@ public final class InstructionBoundsTest {
         }
     }
 
+    private static void oneBehindTheOther() {
+        Bounds.says("CODE is instructions one behind the other, from byte 0 on to its end.");
+        String[] code = {"PUSH 1", "STORE 0", "LOAD 0", "DUP", "SWAP", "ADD", "OUT", "NIL", "NONE", "ZERO e",
+            "e: YIELD", "NEW 0", "GET 0", "POP", "NEW 0", "PUSH 1", "PUT 0", "PUSH 1", "ROW", "LENGTH", "POP",
+            "PUSH 1", "ROWS 0", "PUSH 0", "TAKE", "POP", "PUSH 1", "ROW", "PUSH 0", "PUSH 1", "LAY", "BLOCK 0",
+            "SEE 0", "SET 0", "FREE", "CHANNEL 0", "STORE 1", "SEND 0", "CLOSE", "LOAD 1", "SPAWN 1", "EXIT"};
+        int[] lengths = {5, 2, 2, 1, 1, 1, 1, 1, 1, 2,
+            1, 2, 2, 1, 2, 5, 2, 5, 1, 1, 1,
+            5, 2, 5, 1, 1, 5, 1, 5, 5, 1, 2,
+            2, 2, 1, 2, 2, 2, 1, 2, 2};
+        String text = "record 0\ncontract\n state client none>1\n state nobody\nfunction : none 4\n"
+            + String.join("\n", code) + "\nfunction 5.0.0.1 : none 1\n b: YIELD\n JUMP b\n";
+        SealedProcesses x = Bounds.booted(text, Asm.process(0, 0, 4));
+        int place = 0;
+        for (int i = 0; i < lengths.length; i++) {
+            Bounds.due("the place of " + code[i], x.process(0, 4), place);
+            Bounds.run(x, 1);
+            place += lengths[i];
+        }
+        Bounds.due("the place of EXIT", x.process(0, 4), place);
+        Bounds.due("bytes of code", x.module(0, 0, 12), place + 1);
+    }
+
+    private static void jumps() {
+        Bounds.says("20 JUMP T.");
+        SealedProcesses x = Bounds.booted("function : none 0\n YIELD\n JUMP 239\n" + "YIELD\n".repeat(236) + "EXIT\n",
+            PLAIN);
+        Bounds.run(x, 2);
+        Bounds.due("the last of 240 bytes", x.process(0, 4), 239);
+        x = Bounds.booted("function : none 0\n" + "YIELD\n".repeat(238) + "JUMP 0\n", PLAIN);
+        Bounds.run(x, 239);
+        Bounds.due("the first", x.process(0, 4), 0);
+        Bounds.run(x, 238);
+        Bounds.due("the last", x.process(0, 4), 238);
+    }
+
     private static void locals() {
         Bounds.says("3 STORE l: one comes to local l");
         StringBuilder code = new StringBuilder("function : none 10\n");
@@ -235,15 +273,12 @@ public final class InstructionBoundsTest {
     private static void emptyRows() {
         // A row of no items is none of what is NIL, and it moves like all others.
         dueOuts(Bounds.alone("record 0\n", "PUSH 5, ROW, STORE 0, PUSH 0, ROW, STORE 1, PUSH 0, ROWS 0, STORE 2, "
-            + "NIL, STORE 0, "
-            + "PUSH 13, ROW, POP, PUSH 13, ROW, POP, LOAD 1, NONE, OUT, LOAD 1, LENGTH, OUT, LOAD 2, NONE, OUT, "
-            + "LOAD 2, LENGTH, OUT, EXIT"), 0, 0, 0, 0);
+            + "NIL, STORE 0, PUSH 13, ROW, POP, PUSH 13, ROW, POP, LOAD 1, NONE, OUT, LOAD 1, LENGTH, OUT, "
+            + "LOAD 2, NONE, OUT, LOAD 2, LENGTH, OUT, EXIT"), 0, 0, 0, 0);
         // What is reached twice is one and the same, wherever it moves.
         dueOuts(Bounds.alone("record 0\n", "PUSH 5, ROW, STORE 0, NEW 0, DUP, STORE 1, STORE 2, NIL, STORE 0, "
-            + "PUSH 13, ROW, POP, "
-            + "LOAD 1, PUSH 6, PUT 0, LOAD 2, GET 0, OUT, PUSH 13, ROW, POP, LOAD 2, PUSH 7, PUT 0, LOAD 1, GET 0, "
-            + "OUT, EXIT"),
-            6, 7);
+            + "PUSH 13, ROW, POP, LOAD 1, PUSH 6, PUT 0, LOAD 2, GET 0, OUT, PUSH 13, ROW, POP, LOAD 2, PUSH 7, "
+            + "PUT 0, LOAD 1, GET 0, OUT, EXIT"), 6, 7);
     }
 
     private static void fieldsOfBlocks() {

@@ -142,6 +142,12 @@ public final class ModuleBoundsTest {
             Bounds.edge(head + "function 0 0 0 " + type + " : none 4\n EXIT\n",
                 head + "function 0 0 0 255 : none 4\n EXIT\n");
         }
+        Bounds.says("a type that may not stand there (at its first byte),");
+        Bounds.refused(Asm.module("record 0 5.9.9.9\n" + MAIN), 1, 5);
+        Bounds.refused(Asm.module("record 0 4.9\n" + MAIN), 1, 5);
+        Bounds.refused(Asm.module("contract\n state client 3.9>0\n" + MAIN), 1, 7);
+        Bounds.refused(Asm.module("function 0 255.0 : none 2\n EXIT\n"), 1, 7);
+        Bounds.refused(Asm.module("function : 6.0 0\n EXIT\n"), 1, 6);
         Bounds.says("its result (a type, or 255: none);");
         for (String type : new String[] {"0", "1.0", "2", "3.0", "4.0", "5.0.0.0", "5.0.0.1", "none"}) {
             for (String other : new String[] {"6", "7", "254"}) {

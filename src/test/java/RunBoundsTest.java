@@ -25,6 +25,7 @@ public final class RunBoundsTest {
         waitsToSend();
         waitsBesideOthers();
         still();
+        trapsEnd();
         nilTraps();
         indexTraps();
         divisionTraps();
@@ -653,6 +654,28 @@ public final class RunBoundsTest {
         Bounds.due("none", x.run(1), 0);
     }
 
+    private static void trapsEnd() {
+        Bounds.says("TRAPS end a process (its step counts):");
+        String head = "record 0 0 0 0 0 0\n" + CONTRACT + "function : none 1\n BLOCK 0\n CHANNEL 0\n CALL 1\n EXIT\n";
+        String[] codes = {"NIL, LENGTH", "PUSH 0, ROW, PUSH 0, TAKE, EXIT", "PUSH 1, PUSH 0, DIV, EXIT",
+            "PUSH -1, ROW, EXIT", "PUSH 16, ROW, EXIT", "BLOCK 0, ".repeat(9) + "CALL 1, EXIT",
+            "CHANNEL 0, CALL 1, EXIT", "SPAWN 2, CALL 1, EXIT", "CALL 1, EXIT", "b: PUSH 1, OUT, JUMP b"};
+        int[] steps = {2, 4, 3, 2, 2, 36 + 3, 2 * 11 + 1, 2 * 11 + 1, 15, 3 * 500 + 2};
+        for (int i = 0; i < codes.length; i++) {
+            SealedProcesses x = Bounds.booted(head + "function : none 0\n" + Bounds.lines(codes[i])
+                + "function : none 0\n y: YIELD\n JUMP y\n", PLAIN);
+            int guard = 0;
+            while (x.process(0, 0) == 1 && guard++ < 100) {
+                x.run(20);
+            }
+            Bounds.dueAll("trap " + (i + 1), Probe.process(x, 0), 5, i + 1, 0, 0, 0, 0, 0, 0, 16, 3 + steps[i]);
+            Bounds.due("its channels are closed", x.about(3), 0);
+            Bounds.due("its blocks go", x.about(4), 0);
+            Bounds.due("no value", x.value(0, 1, 0), LEAST);
+            Bounds.due("the others go on", x.about(2), i == 7 ? 11 : 0);
+        }
+    }
+
     private static void nilTraps() {
         Bounds.says("1 NIL where a node or row is needed;");
         fine("NEW 0, GET 0, POP, EXIT");
@@ -754,8 +777,8 @@ public final class RunBoundsTest {
         Bounds.due("sixteen cells", deep.process(0, 7), 16);
         Bounds.due("sixteen activations", deep.process(0, 5), 16);
         for (int first : new int[] {0, 1}) {
-            SealedProcesses x = Bounds.booted("function : none 0\n CALL 2\n EXIT\nfunction : none 0\n PUSH 0\n ROW\n"
-                + " CALL 2\n EXIT\n"
+            SealedProcesses x = Bounds.booted("function : none 0\n CALL 2\n EXIT\n"
+                + "function : none 0\n PUSH 0\n ROW\n CALL 2\n EXIT\n"
                 + "function : none 1\n PUSH 0\n ROW\n CALL 3\n EXIT\n"
                 + "function : none 0\n PUSH 0\n ROW\n DUP\n POP\n PUSH 13\n ROW\n EXIT\n", Asm.process(0, first, 1));
             x.run(100);
