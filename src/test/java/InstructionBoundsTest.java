@@ -271,6 +271,11 @@ public final class InstructionBoundsTest {
     }
 
     private static void emptyRows() {
+        // A row of nodes that moves: its length, its first, its last, and one that is NIL.
+        dueOuts(Bounds.alone("record 0\n", "PUSH 4, ROW, STORE 0, PUSH 3, ROWS 0, STORE 1, NIL, STORE 0, "
+            + "LOAD 1, PUSH 0, NEW 0, LAY, LOAD 1, PUSH 2, NEW 0, LAY, LOAD 1, PUSH 2, TAKE, PUSH 7, PUT 0, "
+            + "PUSH 7, ROW, POP, PUSH 7, ROW, POP, LOAD 1, LENGTH, OUT, LOAD 1, PUSH 0, TAKE, GET 0, OUT, "
+            + "LOAD 1, PUSH 1, TAKE, NONE, OUT, LOAD 1, PUSH 2, TAKE, GET 0, OUT, EXIT"), 3, 0, 1, 7);
         // A row of no items is none of what is NIL, and it moves like all others.
         dueOuts(Bounds.alone("record 0\n", "PUSH 5, ROW, STORE 0, PUSH 0, ROW, STORE 1, PUSH 0, ROWS 0, STORE 2, "
             + "NIL, STORE 0, PUSH 13, ROW, POP, PUSH 13, ROW, POP, LOAD 1, NONE, OUT, LOAD 1, LENGTH, OUT, "

@@ -23,6 +23,7 @@ public final class RunBoundsTest {
         turnsAcrossRuns();
         waitsToReceive();
         waitsToSend();
+        serverWaitsToSend();
         waitsBesideOthers();
         still();
         trapsEnd();
@@ -578,6 +579,28 @@ public final class RunBoundsTest {
         Bounds.due("goes on", x.process(0, 0), 1);
     }
 
+    private static void serverWaitsToSend() {
+        // The same of the client's end of channel 0, where the server sends.
+        SealedProcesses x = Bounds.booted("""
+            contract
+              state server none>0
+            function 5.0.0.0 : none 1
+              b: YIELD
+              JUMP b
+            function 5.0.0.1 : none 1
+              LOAD 0
+              b: SEND 0
+              JUMP b
+            """, Asm.process(0, 0, 1, 0), Asm.process(0, 1, 1, 0));
+        Bounds.run(x, 1 + 8 + 2 + 1);
+        Bounds.dueAll("four wait", Probe.end(x, 0, 0), 0, 0, 4);
+        Bounds.due("the fourth was sent", x.process(1, 0), 1);
+        Bounds.run(x, 1 + 2);
+        Bounds.due("the fifth waits", x.process(1, 0), 3);
+        Bounds.dueAll("four wait", Probe.end(x, 0, 0), 0, 0, 4);
+        dueSteps(x, 6, 9);
+    }
+
     private static void waitsBesideOthers() {
         // Of three channels the second is full; the end is above an INT, alone or below its load.
         String text = """
@@ -817,6 +840,17 @@ public final class RunBoundsTest {
         trap(5, 6, "PUSH 7, ROW, DUP, STORE 0, PUSH 8, ROW, EXIT");
         fine("NEW 0, DUP, DUP, PUT 1, POP, PUSH 15, ROW, EXIT");
         trap(5, 6, "NEW 0, DUP, DUP, PUT 1, PUSH 13, ROW, EXIT");
+        // However far it is reached: five nodes, each with the next, are fifteen cells; 93 steps make them.
+        String list = "PUSH 5, STORE 1, NIL, STORE 0, m: NEW 0, DUP, LOAD 1, PUT 0, DUP, LOAD 0, PUT 1, STORE 0, "
+            + "PUSH 0, ROW, POP, LOAD 1, PUSH 1, SUB, DUP, STORE 1, ZERO e, JUMP m, e: ";
+        fine(list + "PUSH 0, ROW, EXIT");
+        trap(5, 93 + 2, list + "PUSH 1, ROW, EXIT");
+        SealedProcesses y = Bounds.alone(RECORDS, list + "PUSH 0, ROW, POP, LOAD 0, GET 1, GET 1, GET 1, GET 1, GET 0, "
+            + "OUT, LOAD 0, GET 0, OUT, YIELD, EXIT");
+        Bounds.run(y, 93 + 14);
+        Bounds.due("the last of five", y.output(0, 1), 5);
+        Bounds.due("the first of five", y.output(1, 1), 1);
+        Bounds.due("their cells", y.process(0, 7), 15);
         // Again and again, with all the room there is.
         SealedProcesses z = Bounds.alone("",
             "b: PUSH 6, ROW, STORE 0, PUSH 8, ROW, STORE 1, NIL, STORE 0, NIL, STORE 1, "
