@@ -684,6 +684,17 @@ public final class CallBoundsTest {
             Bounds.due("cells behind step " + (step + 1), x.process(0, 7), want[step]);
             Bounds.due("and once more", x.process(0, 7), want[step]);
         }
+        // Four nodes, each with the next; then another alone: what was reached once is nothing to what is reached now.
+        String more = "NEW 0, DUP, LOAD 0, PUT 1, STORE 0, ";
+        x = Bounds.alone("record 0 1.0\n", "NEW 0, STORE 0, " + more.repeat(3)
+            + "YIELD, NEW 0, STORE 0, YIELD, NIL, STORE 0, EXIT");
+        Bounds.run(x, 18);
+        Bounds.due("four nodes", x.process(0, 7), 12);
+        Bounds.run(x, 3);
+        Bounds.due("one node", x.process(0, 7), 3);
+        Bounds.due("and once more", x.process(0, 7), 3);
+        Bounds.run(x, 2);
+        Bounds.due("none", x.process(0, 7), 0);
     }
 
     private static void block() {

@@ -39,6 +39,7 @@ public final class CodeBoundsTest {
         whatComesFirst();
         whatIsTaken();
         typesThatAreTaken();
+        withoutRecords();
         mostOnTheStack();
         emptyLocals();
         linearOnce();
@@ -212,6 +213,18 @@ public final class CodeBoundsTest {
         wants("", "POP", 0, 1, 2, 3, 4, 5, 6);
         wants("", "DUP", 0, 1, 2, 3, 4, 5, 6);
         wants("PUSH 1, ", "SWAP", 0, 1, 2, 3, 4, 5, 6, 7, 8, 9);
+    }
+
+    private static void withoutRecords() {
+        // A module without records and contracts: what wants a node, a block or an end finds none.
+        String[] instructions = {"GET 0", "GET 5", "PUSH 1, PUT 0", "SEE 0", "SEE 5", "PUSH 1, SET 5", "FREE", "LENGTH",
+            "PUSH 1, TAKE", "PUSH 1, PUSH 1, LAY", "SEND 0", "PUSH 1, SEND 3", "RECEIVE 0", "CLOSE", "NONE"};
+        for (String instruction : instructions) {
+            String head = "function : none 1\n";
+            Bounds.taken(head + Bounds.lines("EXIT, PUSH 1, " + instruction));
+            Bounds.refused(Asm.module(head + Bounds.lines("PUSH 1, " + instruction + ", EXIT")), 2, 9);
+            Bounds.refused(Asm.module(head + Bounds.lines(instruction + ", EXIT")), 2, 9);
+        }
     }
 
     /** What is done grows the stack by so many; what it takes is made first. */
