@@ -265,7 +265,16 @@ public final class CallBoundsTest {
             Bounds.due("load", Check.load(x, MAIN.repeat(m)), m);
         }
         Bounds.due("the sixth place", x.module(5, 0, 2), 5);
-        // The most of each.
+        // The least and the most of each.
+        SealedProcesses z = Check.withModule(MAIN);
+        int[] least = {0, 0, 1, 10};
+        for (int what = 0; what < 4; what++) {
+            Bounds.due("the least " + what, z.module(0, 0, what), least[what]);
+        }
+        int[] leastOfFunction = {0, 0, 1, 9, 0};
+        for (int what = 10; what < 15; what++) {
+            Bounds.due("the least " + what, z.module(0, 0, what), leastOfFunction[what - 10]);
+        }
         SealedProcesses y = Check.withModule("record 0\n".repeat(8) + "contract\n state nobody\n".repeat(4)
             + "function 0 0 0 0 : none 10\n" + "YIELD\n".repeat(239) + "EXIT\n" + MAIN.repeat(9));
         int[] most = {8, 4, 10};

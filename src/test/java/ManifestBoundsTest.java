@@ -306,7 +306,11 @@ public final class ManifestBoundsTest {
             + "then");
         String eight = "contract\n" + " state client none>0 none>1 none>2 none>7\n".repeat(8);
         String seven = " state client none>0 none>1 none>2 none>7\n".repeat(7);
-        alikeEdge(eight, "contract\n" + seven.replace(">7", ">6"));
+        // The same seven, and one state more or a last one less.
+        String first = "contract\n" + seven.replace(">7", ">6");
+        alikeEdge(first, first + " state nobody\n");
+        alikeEdge("contract\n state nobody\n", "contract\n state nobody\n state nobody\n");
+        alikeEdge(eight, first);
         alikeEdge(eight, "contract\n" + seven + " state server none>0 none>1 none>2 none>7\n");
         alikeEdge(eight, "contract\n" + seven + " state client none>0 none>1 none>2\n");
         alikeEdge(eight, "contract\n" + seven + " state client none>0 none>1 none>2 none>6\n");
