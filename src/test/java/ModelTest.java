@@ -88,8 +88,8 @@ public final class ModelTest {
     }
 
     private static final int[] WILD = {Integer.MIN_VALUE, Integer.MIN_VALUE + 1, -1000000, -101, -2, -1, 0, 1, 2, 3, 5,
-        6, 7, 9, 10, 11, 12, 13, 14, 15, 16, 17, 23, 24, 26, 100, 127, 128, 239, 240, 255, 256, 499, 500, 501, 1999, 2000,
-        2001, 10001, 1 << 16, 1 << 30, Integer.MAX_VALUE - 1, Integer.MAX_VALUE};
+        6, 7, 9, 10, 11, 12, 13, 14, 15, 16, 17, 23, 24, 26, 100, 127, 128, 239, 240, 255, 256, 499, 500, 501, 1999,
+        2000, 2001, 10001, 1 << 16, 1 << 30, Integer.MAX_VALUE - 1, Integer.MAX_VALUE};
 
     private int wild() {
         return WILD[chance.nextInt(WILD.length)];
